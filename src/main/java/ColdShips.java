@@ -788,7 +788,8 @@ public final class ColdShips {
         private int depth;
         private int heat;
         private final int[] wayHours = new int[MOST_TERMINALS];
-        private final boolean[] wayCanal = new boolean[MOST_TERMINALS];
+        /** HOURS left at which a SHIP needs a TURN; 0: the CANAL is not on the WAY. */
+        private final int[] wayHalf = new int[MOST_TERMINALS];
 
         void begin(int tons, int most, int anHour, int deep) {
             store = tons;
@@ -802,7 +803,7 @@ public final class ColdShips {
         void tellWay(int to, int hours, boolean canal) {
             if (within(to, 0, MOST_TERMINALS - 1)) {
                 wayHours[to] = hours;
-                wayCanal[to] = canal;
+                wayHalf[to] = canal ? hours / 2 : 0;
             }
         }
 
@@ -817,7 +818,7 @@ public final class ColdShips {
             depth = other.depth;
             heat = other.heat;
             System.arraycopy(other.wayHours, 0, wayHours, 0, MOST_TERMINALS);
-            System.arraycopy(other.wayCanal, 0, wayCanal, 0, MOST_TERMINALS);
+            System.arraycopy(other.wayHalf, 0, wayHalf, 0, MOST_TERMINALS);
         }
     }
 
@@ -952,7 +953,7 @@ public final class ColdShips {
         private int fuel;
         private int where;
         private int left;
-        /** HOURS left at which a TURN is needed; 0: the CANAL is not on the WAY. */
+        /** HOURS left at which it needs a TURN, by the WAY as it was when the SHIP left. */
         private int half;
         private boolean drifting;
         private int orders;
@@ -1177,7 +1178,9 @@ public final class ColdShips {
             contractCount = other.contractCount;
             System.arraycopy(other.tides, 0, tides, 0, TIDES);
             System.arraycopy(other.seas, 0, seas, 0, DAYS);
-            System.arraycopy(other.contracts, 0, contracts, 0, MOST_CONTRACTS);
+            for (int c = 0; c < MOST_CONTRACTS; c++) {
+                contracts[c] = other.contracts[c];
+            }
             for (int t = 0; t < terminalCount; t++) {
                 terminals[t].copyFrom(other.terminals[t]);
             }
@@ -1224,33 +1227,17 @@ public final class ColdShips {
             ship.tank.boil(world.boils + sea);
             ship.tank.warmOrCool();
             ship.burnFuel(atSea ? ship.fuel : ship.fuel / 4);
-            if (ship.orders > 0) {
-                obey(number, ship);
+            int sort = ship.orders > 0 ? ship.orderSorts[0] : NONE;
+            if (sort == SAIL) {
+                sail(ship);
+            } else if (sort == LOAD && tonsMayGo(number, ship)) {
+                load(ship);
+            } else if (sort == LAND && tonsMayGo(number, ship)) {
+                land(number, ship);
+            } else if (sort == WAIT && hour >= ship.orderWhats[0]) {
+                ship.endOrder();
             }
             ship.book[VENTED] += ship.tank.vent(world.limit);
-        }
-
-        private void obey(int number, Ship ship) {
-            switch (ship.orderSorts[0]) {
-                case SAIL:
-                    sail(ship);
-                    break;
-                case LOAD:
-                    if (tonsMayGo(number, ship)) {
-                        load(ship);
-                    }
-                    break;
-                case LAND:
-                    if (tonsMayGo(number, ship)) {
-                        land(number, ship);
-                    }
-                    break;
-                default:
-                    if (hour >= ship.orderWhats[0]) {
-                        ship.endOrder();
-                    }
-                    break;
-            }
         }
 
         private void sail(Ship ship) {
@@ -1263,8 +1250,7 @@ public final class ColdShips {
                 if (hours <= 0) {
                     return;
                 }
-                // A WAY told anew later is not that of a SHIP which has left.
-                ship.half = world.terminals[ship.where].wayCanal[to] ? hours / 2 : 0;
+                ship.half = world.terminals[ship.where].wayHalf[to];
                 ship.left = hours;
                 ship.where = to;
             }
@@ -1697,18 +1683,14 @@ public final class ColdShips {
                 }
             } else if (isDigit(tape[place])) {
                 kind = DIGITS;
-                passDigits();
+                value = 0;
+                while (behind < size && isDigit(tape[behind])) {
+                    // A row of digits may be too long for an int: beyond the greatest NUMBER it need not grow.
+                    value = Math.min(MOST_NUMBER + 1, value * 10 + tape[behind] - '0');
+                    behind++;
+                }
             } else {
                 kind = SIGN;
-                behind++;
-            }
-        }
-
-        private void passDigits() {
-            value = 0;
-            while (behind < size && isDigit(tape[behind])) {
-                // A row of digits may be far too long for an int: beyond the greatest NUMBER it need not grow.
-                value = Math.min(MOST_NUMBER + 1, value * 10 + tape[behind] - '0');
                 behind++;
             }
         }
@@ -1821,8 +1803,8 @@ public final class ColdShips {
             switch (sort) {
                 case ADD: return pushSum(left + right);
                 case SUBTRACT: return pushSum(left - right);
-                case MULTIPLY: return right == 0 || Math.abs(left) <= MOST_SUM / Math.abs(right)
-                        ? pushSum(left * right) : false;
+                case MULTIPLY: return (right == 0 || Math.abs(left) <= MOST_SUM / Math.abs(right))
+                        && pushSum(left * right);
                 case DIVIDE: return right != 0 && pushSum(left / right);
                 case BELOW: return pushSum(left < right ? 1 : 0);
                 case ABOVE: return pushSum(left > right ? 1 : 0);
