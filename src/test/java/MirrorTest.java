@@ -1380,8 +1380,10 @@ public final class MirrorTest {
     }
 
     static void callImage(ColdShips x, Mirror m) {
-        int k = draw(8) == 0 ? wild() : draw(2);
-        boolean back = draw(2) == 0;
+        callBack(x, m, draw(2) == 0, draw(8) == 0 ? wild() : draw(2));
+    }
+
+    static void callBack(ColdShips x, Mirror m, boolean back, int k) {
         int want = back ? m.back(k) : m.image(k);
         history.add((back ? "back(" : "image(") + k + ") = " + want);
         same(back ? "back" : "image", back ? x.back(k) : x.image(k), want);
@@ -1444,6 +1446,30 @@ public final class MirrorTest {
         ColdShips x = new ColdShips();
         Mirror m = new Mirror();
         history.clear();
+        build(x, m);
+        trade(x, m, 60);
+    }
+
+    /** All is gone back to from where other terminals and ships stand under the same numbers. */
+    static void oneRebuilt() {
+        ColdShips x = new ColdShips();
+        Mirror m = new Mirror();
+        history.clear();
+        callBack(x, m, false, 0);
+        build(x, m);
+        trade(x, m, between(1, 12));
+        callBack(x, m, false, 1);
+        callBack(x, m, true, 0);
+        compare(x, m);
+        build(x, m);
+        compare(x, m);
+        trade(x, m, between(1, 12));
+        callBack(x, m, true, 1);
+        compare(x, m);
+        trade(x, m, 6);
+    }
+
+    static void build(ColdShips x, Mirror m) {
         int terminals = between(2, 6);
         for (int t = 0; t < terminals; t++) {
             int cap = between(500, 60000);
@@ -1459,7 +1485,9 @@ public final class MirrorTest {
                 both(x, m, "way", a, b, between(1, 20), draw(3) > 0 ? 1 : 0);
             }
         }
-        both(x, m, "terms", draw(3) == 0 ? 0 : between(0, 100), between(1, draw(2) == 0 ? 20 : 1000));
+        int[] limits = {9, 19, 49, 99, 199, 499, 999, 1000};
+        both(x, m, "terms", draw(3) == 0 ? 0 : between(0, 100),
+                draw(2) == 0 ? limits[draw(8)] : between(1, draw(2) == 0 ? 20 : 1000));
         for (int n = 0; n < 60; n++) {
             int from = n / terminals * 12;
             both(x, m, "slot", n % terminals, ships == 1 ? 0 : draw(ships), from, from + 11);
@@ -1471,7 +1499,12 @@ public final class MirrorTest {
         for (int n = 0; n < 5; n++) {
             callContract(x, m);
         }
-        for (int n = 0; n < 60 && wrong < 20; n++) {
+    }
+
+    static void trade(ColdShips x, Mirror m, int steps) {
+        for (int n = 0; n < steps && wrong < 20; n++) {
+            int ships = m.st.ships.size();
+            int terminals = m.st.terminals.size();
             for (int s = 0; s < ships && n % 3 == 0; s++) {
                 both(x, m, "order", s, 1, between(1, 2500));
                 both(x, m, "order", s, 0, draw(terminals));
@@ -1555,6 +1588,9 @@ public final class MirrorTest {
         }
         for (; run <= 1600 && wrong < 20; run++) {
             oneTrade();
+        }
+        for (; run <= 1900 && wrong < 20; run++) {
+            oneRebuilt();
         }
         for (int n = 0; n < 3000 && wrong < 20; n++, run++) {
             history.clear();

@@ -655,6 +655,77 @@ public final class PromisesTest {
         due(x.book(0, 2), 1);
     }
 
+    /** PRESS 100 with five tons in a space of fifty is above 99: one ton is vented, and no more. */
+    private static void ventsJustEnough() {
+        promise = 11;
+        ColdShips x = new ColdShips();
+        x.terminal(5000, 5000, 4000, 30);
+        x.ship(0, 1000, 1);
+        x.terms(100, 1000);
+        x.sea(0, 9);
+        x.slot(0, 0, 0, 99);
+        x.order(0, 1, 965);
+        x.go(6);
+        due(x.of(0, 2), 960);
+        due(x.of(0, 3), 5);
+        due(x.of(0, 5), 100);
+        x.sea(0, 0);
+        x.terms(0, 100);
+        x.go(1);
+        due(x.of(0, 3), 5);
+        x.terms(0, 99);
+        x.go(1);
+        due(x.of(0, 3), 4);
+        due(x.book(0, 2), 1);
+    }
+
+    /** The LIMIT is 700 at first: a full ship in high seas is kept at it. */
+    private static void limitAtFirst() {
+        promise = 11;
+        ColdShips x = new ColdShips();
+        x.terminal(500_000, 500_000, 10_000, 30);
+        x.ship(0, 200_000, 1);
+        x.slot(0, 0, 0, 999);
+        x.order(0, 1, 196_000);
+        for (int day = 0; day < 20; day++) {
+            x.sea(day, 9);
+        }
+        x.go(400);
+        due(x.of(0, 5), 700);
+        due(x.book(0, 2) > 0 ? 1 : 0, 1);
+    }
+
+    /** What is BOILED and COOLED is cut: just below a whole ton it is one less. */
+    private static void cutTons() {
+        promise = 11;
+        ColdShips x = new ColdShips();
+        x.terminal(500_000, 500_000, 10_000, 30);
+        x.ship(0, 199_999, 1);
+        x.slot(0, 0, 0, 999);
+        x.terms(0, 1000);
+        x.order(0, 1, 2500);
+        x.order(0, 1, 2500);
+        x.go(2);
+        due(x.of(0, 3), 0);
+        due(x.of(0, 2), 5000);
+        x.go(1);
+        // 20 tenths times 199,999 / 100,000.
+        due(x.of(0, 3), 39);
+        ColdShips y = new ColdShips();
+        y.terminal(500_000, 500_000, 10_000, 30);
+        y.ship(0, 1000, 1);
+        y.slot(0, 0, 0, 999);
+        y.terms(100, 1000);
+        y.sea(1, 3);
+        y.order(0, 1, 971);
+        y.go(25);
+        due(y.of(0, 3), 1);
+        due(y.of(0, 2), 970);
+        // 970 * 103 is 99,910.
+        y.go(1);
+        due(y.of(0, 3), 1);
+    }
+
     private static ColdShips mixed() {
         ColdShips x = new ColdShips();
         for (int t = 0; t < 3; t++) {
@@ -980,6 +1051,7 @@ public final class PromisesTest {
         due(faultOf("at tons"), 3);
         due(faultOf("at 000005"), -1);
         due(faultOf("pay 100000"), -1);
+        due(faultOf("pay 100001"), 4);
         due(faultOf("pay 99999999999999999999999"), 4);
         due(faultOf("pay 4294967296"), 4);
         due(faultOf("pay 00000000000000000000000000000000001"), -1);
@@ -1144,6 +1216,11 @@ public final class PromisesTest {
         due(x.table(0, 2, 101, 999), 0);
         due(x.gauged(0, 0, 0), NOTHING);
         due(x.table(0, 2, 101, 1000), 0);
+        due(x.table(0, 0, 100, 900), 0);
+        due(x.gauged(0, 0, 0), NOTHING);
+        due(x.table(0, 0, 50, 1001), 0);
+        due(x.gauged(0, 0, 0), NOTHING);
+        due(x.table(0, 0, 50, 1000), 0);
         due(x.gauged(0, 0, 0), 1000 + 49L * 199_000 / 4899);
         due(x.status(), 0);
     }
@@ -1544,6 +1621,95 @@ public final class PromisesTest {
         due(x.led(0, 0), 600);
     }
 
+    /** Ships and terminals made anew under a number have nothing of those that were gone back behind. */
+    private static void bornAnew() {
+        promise = 39;
+        ColdShips x = new ColdShips();
+        x.image(0);
+        x.terminal(5000, 5000, 400, 30);
+        x.terminal(5000, 6000, 400, 30);
+        x.way(0, 1, 5, true);
+        x.ship(0, 1000, 50);
+        x.slot(0, 0, 0, 99);
+        x.terms(100, 9);
+        x.order(0, 1, 900);
+        x.order(0, 2, 600);
+        x.broken(0, 10, 19);
+        x.table(0, 0, 0, 0);
+        x.list(0, 7);
+        x.go(12);
+        x.image(1);
+        due(x.of(0, 7), 200);
+        x.back(0);
+        due(x.count(1), 0);
+        x.terminal(1000, 1000, 40, 8);
+        x.terminal(0, 2000, 20, 8);
+        x.ship(1, 2000, 1);
+        due(x.of(0, 0), 1);
+        due(x.of(0, 2), 0);
+        due(x.of(0, 3), 0);
+        due(x.of(0, 4), 1800);
+        due(x.of(0, 6), 0);
+        due(x.part(0, 0), 0);
+        due(x.book(0, 0), 0);
+        due(x.list(0, 0), 0);
+        x.order(0, 0, 0);
+        x.go(1);
+        due(x.of(0, 0), 1);
+        x.way(0, 1, 1, false);
+        x.go(1);
+        due(x.of(0, 0), 0);
+        x.back(1);
+        due(x.of(0, 7), 200);
+        x.go(9);
+        due(x.landing(0, 2), 9);
+        due(x.landing(0, 3), 20);
+        due(x.landing(0, 4), 600);
+        due(x.led(0, 0), 600);
+        x.back(0);
+        x.terminal(1000, 2000, 40, 20);
+        x.ship(0, 1000, 1);
+        x.slot(0, 0, 0, 99);
+        x.order(0, 1, 60);
+        x.order(0, 2, 30);
+        x.go(7);
+        due(x.landing(0, 4), 30);
+        due(x.led(0, 0), 30);
+        due(x.landing(0, 2), 6);
+    }
+
+    /** LIMIT, the orders given, and a LANDING's HOURS so far are gone back to as well. */
+    private static void backInTheMidst() {
+        promise = 39;
+        ColdShips x = harbour(1);
+        x.order(0, 1, 1000);
+        x.order(0, 0, 1);
+        x.order(0, 2, 700);
+        x.broken(1, 22, 23);
+        x.go(22);
+        x.image(0);
+        x.back(0);
+        x.go(3);
+        due(x.landing(0, 2), 20);
+        x.order(0, 1, 5);
+        x.order(0, 2, 5);
+        x.go(5);
+        due(x.landing(1, 2), 26);
+        x.back(0);
+        x.go(3);
+        due(x.landing(0, 2), 20);
+        due(x.landing(0, 3), 24);
+        due(x.count(4), 1);
+        x.image(1);
+        for (int n = 0; n < 397; n++) {
+            x.order(0, 3, 0);
+            x.go(1);
+        }
+        due(x.order(0, 3, 0), -5);
+        x.back(1);
+        due(x.order(0, 3, 0), 1);
+    }
+
     private static void counts() {
         promise = 40;
         ColdShips x = landed();
@@ -1623,6 +1789,9 @@ public final class PromisesTest {
         wayToldAnew();
         draft();
         pressure();
+        ventsJustEnough();
+        limitAtFirst();
+        cutTons();
         parts();
         alikeRests();
         book();
@@ -1655,6 +1824,8 @@ public final class PromisesTest {
         judgeEdges();
         images();
         imagesUnderWay();
+        bornAnew();
+        backInTheMidst();
         counts();
         status();
         System.out.println(wrong == 0 ? "all " + asked + " answers are as due" : wrong + " answers are not as due");
