@@ -1560,6 +1560,33 @@ public final class MirrorTest {
         }
     }
 
+    /** Few sorts of cargoes, so that many rows have the same WORTH. */
+    static void alikeFleet() {
+        ColdShips x = new ColdShips();
+        Mirror m = new Mirror();
+        history.clear();
+        int terminals = between(2, 3);
+        for (int t = 0; t < terminals; t++) {
+            both(x, m, "terminal", 0, 100, 100, 10);
+        }
+        for (int s = between(1, 3); s > 0; s--) {
+            both(x, m, "ship", draw(terminals), 1000, between(1, 2));
+        }
+        for (int a = 0; a < terminals; a++) {
+            for (int b = 0; b < a; b++) {
+                both(x, m, "way", a, b, between(1, 2), 0);
+            }
+        }
+        both(x, m, "terms", 0, 700);
+        for (int n = between(2, 6); n > 0; n--) {
+            int from = draw(terminals);
+            int a = draw(3) * 4;
+            int c = draw(4) * 5;
+            both(x, m, "cargo", from, (from + 1) % terminals, a, a + draw(3) * 5, c, c + 8, 100, between(1, 5));
+        }
+        callBest(x, m);
+    }
+
     /** What a BEST has at the most: three ships, six cargoes, all rows can be. */
     static void widestFleet() {
         ColdShips x = new ColdShips();
@@ -1591,6 +1618,9 @@ public final class MirrorTest {
         }
         for (; run <= 1900 && wrong < 20; run++) {
             oneRebuilt();
+        }
+        for (; run <= 5900 && wrong < 20; run++) {
+            alikeFleet();
         }
         for (int n = 0; n < 3000 && wrong < 20; n++, run++) {
             history.clear();

@@ -1040,6 +1040,9 @@ public final class PromisesTest {
         due(faultOf("pay 1 ; "), 8);
         due(faultOf("pay 1 1"), 6);
         due(faultOf("paytons"), 0);
+        due(faultOf("payz 1"), 0);
+        due(faultOf("pay tonsz"), 4);
+        due(faultOf("pay 1 az"), 6);
         due(faultOf("pay Tons"), 4);
         due(faultOf("pay \u00e9"), 4);
         due(faultOf("pay 1\n"), 5);
@@ -1422,6 +1425,27 @@ public final class PromisesTest {
         due(x.voyage(1, 1), 0);
         due(x.voyage(2, 0), 0);
         due(x.voyage(2, 1), 2);
+    }
+
+    /** One cargo of 1500 is ahead of two of 1500 together, also if its number is greater. */
+    private static void fewestCargoes() {
+        promise = 35;
+        ColdShips x = new ColdShips();
+        x.terminal(0, 0, 100, 0);
+        x.terminal(0, 0, 100, 0);
+        x.ship(0, 1000, 1);
+        x.way(0, 1, 1, false);
+        x.terms(0, 700);
+        x.cargo(0, 1, 0, 0, 0, 9, 100, 11);
+        x.cargo(1, 0, 0, 9, 0, 99, 100, 6);
+        due(x.best(0), 1500);
+        due(x.voyage(1, 1), 1);
+        x.cargo(0, 1, 0, 0, 50, 60, 100, 16);
+        due(x.best(0), 1500);
+        due(x.voyage(0, 0), -1);
+        due(x.voyage(1, 0), -1);
+        due(x.voyage(2, 0), 0);
+        due(x.voyage(2, 3), 50);
     }
 
     private static void voyages() {
@@ -1819,6 +1843,7 @@ public final class PromisesTest {
         cargoes();
         best();
         alikeBest();
+        fewestCargoes();
         voyages();
         judges();
         judgeEdges();
