@@ -652,7 +652,8 @@ public final class ColdShips {
         }
 
         long at(int row, int column) {
-            return isCell(row, column) ? cells[row * width + column] : 0L;
+            boolean there = row >= 0 && row < size && column >= 0 && column < width;
+            return there ? cells[row * width + column] : 0L;
         }
 
         int number(int row, int column) {
@@ -660,7 +661,7 @@ public final class ColdShips {
         }
 
         void set(int row, int column, long value) {
-            if (isCell(row, column)) {
+            if (has(row) && column >= 0 && column < width) {
                 cells[row * width + column] = value;
             }
         }
@@ -672,13 +673,12 @@ public final class ColdShips {
                 size = other.size;
             }
         }
-
-        private boolean isCell(int row, int column) {
-            return has(row) && column >= 0 && column < width;
-        }
     }
 
-    /** Spans of HOURS, both ends with them, each with an owner; asked for the owners from low to high. */
+    /**
+     * Spans of HOURS, both ends with them, each with an owner; asked for the owners from low to high.
+     * They are kept in the order of their beginnings, so that one look through them passes the HOURS in turn.
+     */
     private static final class Spans {
         private final int[] owners;
         private final int[] begins;
@@ -697,16 +697,22 @@ public final class ColdShips {
             if (size >= owners.length) {
                 return NONE;
             }
-            owners[size] = owner;
-            begins[size] = from;
-            ends[size] = to;
+            int place = size;
+            for (; place > 0 && begins[place - 1] > from; place--) {
+                owners[place] = owners[place - 1];
+                begins[place] = begins[place - 1];
+                ends[place] = ends[place - 1];
+            }
+            owners[place] = owner;
+            begins[place] = from;
+            ends[place] = to;
             size++;
             return size;
         }
 
         boolean meets(int low, int high, int from, int to) {
-            for (int n = 0; n < size; n++) {
-                if (owners[n] >= low && owners[n] <= high && begins[n] <= to && ends[n] >= from) {
+            for (int n = 0; n < size && begins[n] <= to; n++) {
+                if (owners[n] >= low && owners[n] <= high && ends[n] >= from) {
                     return true;
                 }
             }
@@ -715,16 +721,13 @@ public final class ColdShips {
 
         /** How many HOURS from first to last lie in no span. */
         int freeHours(int low, int high, int first, int last) {
-            int free = 0;
+            int free = Math.max(0, last - first + 1);
             int hour = first;
-            for (int round = 0; round <= LAST_HOUR && hour <= last; round++) {
-                int till = coveredTill(low, high, hour);
-                if (till != NONE) {
-                    hour = till + 1;
-                } else {
-                    int next = Math.min(nextBegin(low, high, hour), last + 1);
-                    free += next - hour;
-                    hour = next;
+            for (int n = 0; n < size && begins[n] <= last; n++) {
+                if (owners[n] >= low && owners[n] <= high && ends[n] >= hour && hour <= last) {
+                    int end = Math.min(ends[n], last);
+                    free -= end - Math.max(begins[n], hour) + 1;
+                    hour = end + 1;
                 }
             }
             return free;
@@ -734,20 +737,13 @@ public final class ColdShips {
         int hourBehind(int low, int high, int begin, int hours) {
             int left = hours;
             int hour = begin;
-            for (int round = 0; round <= LAST_HOUR && hour <= LAST_HOUR; round++) {
-                int till = coveredTill(low, high, hour);
-                if (till != NONE) {
-                    hour = till + 1;
-                } else {
-                    int free = Math.min(nextBegin(low, high, hour) - hour, left);
-                    hour += free;
-                    left -= free;
-                    if (left <= 0) {
-                        return hour;
-                    }
+            for (int n = 0; n < size && begins[n] - hour < left; n++) {
+                if (owners[n] >= low && owners[n] <= high && ends[n] >= hour) {
+                    left -= Math.max(0, begins[n] - hour);
+                    hour = ends[n] + 1;
                 }
             }
-            return NONE;
+            return hour + left <= LAST_HOUR + 1 ? hour + left : NONE;
         }
 
         void copyFrom(Spans other) {
@@ -757,26 +753,6 @@ public final class ColdShips {
                 System.arraycopy(other.ends, 0, ends, 0, other.size);
                 size = other.size;
             }
-        }
-
-        private int coveredTill(int low, int high, int hour) {
-            int till = NONE;
-            for (int n = 0; n < size; n++) {
-                if (owners[n] >= low && owners[n] <= high && begins[n] <= hour && ends[n] >= hour) {
-                    till = Math.max(till, ends[n]);
-                }
-            }
-            return till;
-        }
-
-        private int nextBegin(int low, int high, int hour) {
-            int next = LAST_HOUR + 1;
-            for (int n = 0; n < size; n++) {
-                if (owners[n] >= low && owners[n] <= high && begins[n] > hour) {
-                    next = Math.min(next, begins[n]);
-                }
-            }
-            return next;
         }
     }
 
@@ -895,9 +871,8 @@ public final class ColdShips {
             return vented;
         }
 
-        /** Tons leave the GAS; what each PART gave is found in given. */
+        /** Tons leave the GAS; if there are any, what each PART gave is found in given. */
         void takeGas(int tons) {
-            Arrays.fill(given, 0);
             if (tons <= 0 || tons > gas) {
                 return;
             }
