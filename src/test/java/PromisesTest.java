@@ -954,7 +954,9 @@ public final class PromisesTest {
         due(x.due(0, 0, 3, 3), 15);
         due(x.due(0, 0, 4, 3), 10);
         due(x.due(0, 0, 5, 2), 9);
-        for (int n = 5; n <= 20; n++) {
+        due(x.force(13, 20, 6), 5);
+        due(x.due(0, 0, 6, 3), 1);
+        for (int n = 6; n <= 20; n++) {
             due(x.force(0, 2399, 2399), n);
         }
         due(x.force(0, 0, 0), -5);
