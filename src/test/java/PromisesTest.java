@@ -713,17 +713,47 @@ public final class PromisesTest {
         due(x.of(0, 3), 39);
         ColdShips y = new ColdShips();
         y.terminal(500_000, 500_000, 10_000, 30);
-        y.ship(0, 1000, 1);
+        y.ship(0, 3000, 1);
         y.slot(0, 0, 0, 999);
-        y.terms(100, 1000);
-        y.sea(1, 3);
-        y.order(0, 1, 971);
-        y.go(25);
-        due(y.of(0, 3), 1);
-        due(y.of(0, 2), 970);
-        // 970 * 103 is 99,910.
+        y.terms(41, 1000);
+        y.order(0, 1, 2439);
+        y.go(9);
+        // 2439 * 41 is 99,999, and 2500 * 40 is 100,000.
+        due(y.of(0, 3), 0);
+        due(y.of(0, 2), 2439);
+        y.terms(0, 1000);
+        y.order(0, 1, 61);
+        y.go(1);
+        y.terms(40, 1000);
         y.go(1);
         due(y.of(0, 3), 1);
+        due(y.of(0, 2), 2499);
+        y.go(1);
+        due(y.of(0, 3), 1);
+    }
+
+    /** 23 tons in a space of 51 have PRESS 450, as many as there may be just below 451. */
+    private static void ventsNoneTooMany() {
+        promise = 11;
+        ColdShips x = new ColdShips();
+        x.terminal(5000, 5000, 4000, 30);
+        x.ship(0, 1000, 1);
+        x.terms(100, 1000);
+        x.sea(0, 9);
+        x.slot(0, 0, 0, 99);
+        x.order(0, 1, 980);
+        x.go(4);
+        x.order(0, 1, 2);
+        x.go(20);
+        due(x.of(0, 2), 959);
+        due(x.of(0, 3), 23);
+        x.terms(0, 450);
+        x.go(1);
+        due(x.of(0, 3), 23);
+        due(x.of(0, 5), 450);
+        x.terms(0, 449);
+        x.go(1);
+        due(x.of(0, 3), 22);
     }
 
     private static ColdShips mixed() {
@@ -859,6 +889,7 @@ public final class PromisesTest {
         due(x.of(0, 6), 0);
         due(x.book(0, 3), 660);
         due(x.landing(59, 4), 1);
+        due(x.landing(59, 5), 1000);
         due(x.landing(60, 4), -1);
     }
 
@@ -1145,6 +1176,9 @@ public final class PromisesTest {
         due(dueOf("pay 100000*100000*100*[0-1]"), -1_000_000_000_000L);
         due(dueOf("pay 100000*100000*100*[100000*100000*100]"), 0);
         due(dueOf("pay 100000*100000*100*0"), 0);
+        due(dueOf("pay 1+65536*65536*[65536*65536]"), 0);
+        due(dueOf("pay 1+[65536*65536*16]*[65536*65536*16]"), 0);
+        due(dueOf("pay 1+65536*65536*2"), 8_589_934_593L);
         due(dueOf("pay 5 if 100000*100000*100*100>1"), 0);
     }
 
@@ -1559,6 +1593,20 @@ public final class PromisesTest {
         due(y.judge(0, 0, -1, -1, 0), 0);
     }
 
+    /** 200 tons for 50 HOURS at 10 are just 100,000: one ton; and no more boil than there are. */
+    private static void boiledOnPaper() {
+        promise = 37;
+        ColdShips x = fleet();
+        x.cargo(0, 1, 0, 0, 50, 60, 200, 10);
+        x.cargo(0, 1, 0, 0, 49, 60, 200, 10);
+        x.cargo(0, 1, 0, 0, 2399, 2399, 50, 1000);
+        x.terms(10, 700);
+        due(x.judge(0, 0, -1, -1, 0), 199 * 10 - 1000);
+        due(x.judge(0, 1, -1, -1, 0), 200 * 10 - 1000);
+        x.terms(100, 700);
+        due(x.judge(0, 2, -1, -1, 0), -1000);
+    }
+
     private static void images() {
         promise = 38;
         ColdShips x = landed();
@@ -1692,6 +1740,7 @@ public final class PromisesTest {
         due(x.landing(0, 3), 20);
         due(x.landing(0, 4), 600);
         due(x.led(0, 0), 600);
+        x.back(1);
         x.back(0);
         x.terminal(1000, 2000, 40, 20);
         x.ship(0, 1000, 1);
@@ -1734,6 +1783,34 @@ public final class PromisesTest {
         due(x.order(0, 3, 0), -5);
         x.back(1);
         due(x.order(0, 3, 0), 1);
+    }
+
+    /** The last HOUR of a LANDING under way is gone back to, though no tons go any more. */
+    private static void backToItsLastHour() {
+        promise = 39;
+        ColdShips x = new ColdShips();
+        x.terminal(5000, 5000, 400, 30);
+        x.terminal(0, 600, 300, 30);
+        x.ship(0, 10_000, 1);
+        x.way(0, 1, 10, false);
+        x.slot(0, 0, 0, 99);
+        x.slot(1, 0, 0, 99);
+        x.order(0, 1, 1000);
+        x.order(0, 0, 1);
+        x.order(0, 2, 700);
+        x.go(22);
+        x.image(0);
+        x.order(0, 0, 0);
+        x.order(0, 2, 5);
+        x.go(20);
+        due(x.landing(0, 3), 21);
+        due(x.landing(1, 3), 33);
+        x.back(0);
+        due(x.count(4), 0);
+        x.go(1);
+        due(x.landing(0, 2), 20);
+        due(x.landing(0, 3), 21);
+        due(x.landing(0, 4), 600);
     }
 
     private static void counts() {
@@ -1816,6 +1893,7 @@ public final class PromisesTest {
         draft();
         pressure();
         ventsJustEnough();
+        ventsNoneTooMany();
         limitAtFirst();
         cutTons();
         parts();
@@ -1849,10 +1927,12 @@ public final class PromisesTest {
         voyages();
         judges();
         judgeEdges();
+        boiledOnPaper();
         images();
         imagesUnderWay();
         bornAnew();
         backInTheMidst();
+        backToItsLastHour();
         counts();
         status();
         System.out.println(wrong == 0 ? "all " + asked + " answers are as due" : wrong + " answers are not as due");
