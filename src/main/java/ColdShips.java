@@ -367,12 +367,12 @@ public final class ColdShips {
     }
 
     public int contract() {
-        if (world.contractCount >= MOST_CONTRACTS) {
-            return refuse(NO_ROOM);
-        }
-        Contract made = reader.readTape();
+        boolean room = world.contractCount < MOST_CONTRACTS;
+        // Without room the TEXT is not read, so that FAULT stays; the TAPE is empty then all the same.
+        Contract made = room ? reader.readTape() : null;
+        reader.emptyTape();
         if (made == null) {
-            return refuse(BAD_TEXT);
+            return refuse(room ? BAD_TEXT : NO_ROOM);
         }
         int number = world.contractCount;
         world.contracts[number] = made;
@@ -1372,7 +1372,11 @@ public final class ColdShips {
             }
         }
 
-        /** The CONTRACT, null if there is a FAULT; the TAPE is empty then. */
+        void emptyTape() {
+            size = 0;
+        }
+
+        /** The CONTRACT, null if there is a FAULT. */
         Contract readTape() {
             behind = 0;
             cells = 0;
@@ -1385,7 +1389,6 @@ public final class ColdShips {
             advance();
             boolean good = readClauses();
             faultAt = good ? NONE : place;
-            size = 0;
             if (!good) {
                 return null;
             }

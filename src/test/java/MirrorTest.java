@@ -776,11 +776,11 @@ public final class MirrorTest {
         }
 
         int contract() {
+            String text = tape;
+            tape = "";
             if (st.contracts.size() == 12) {
                 return status = -5;
             }
-            String text = tape;
-            tape = "";
             fault = new Text(text).read();
             if (fault >= 0) {
                 return status = -6;
@@ -1087,7 +1087,7 @@ public final class MirrorTest {
     static int run;
     static List<String> history = new ArrayList<>();
     /** What the runs have met, so that the test tells if it has grown blind. */
-    static long[] met = new long[16];
+    static long[] met = new long[17];
 
     static boolean same(String call, long got, long want) {
         if (got != want) {
@@ -1370,13 +1370,21 @@ public final class MirrorTest {
 
     static void callContract(ColdShips x, Mirror m) {
         feedText(x, m, drawText());
+        callContractAsItStands(x, m);
+    }
+
+    static void callContractAsItStands(ColdShips x, Mirror m) {
+        int had = m.tape.length();
         int want = m.contract();
         history.add("contract() = " + want + ", fault " + m.fault);
         same("contract()", x.contract(), want);
         same("fault()", x.fault(), m.fault);
         same("status()", x.status(), m.status);
+        same("count(8)", x.count(8), 0);
+        same("count(5)", x.count(5), m.st.contracts.size());
         met[13] += want >= 0 ? 1 : 0;
         met[14] += want == -6 ? 1 : 0;
+        met[16] += want == -5 && had > 0 ? 1 : 0;
     }
 
     static void callImage(ColdShips x, Mirror m) {
@@ -1439,6 +1447,60 @@ public final class MirrorTest {
             }
         }
         compare(x, m);
+    }
+
+    /** A TAPE that is fed, cut and read till there is no more room for CONTRACTS, and gone back from. */
+    static void oneTape() {
+        ColdShips x = new ColdShips();
+        Mirror m = new Mirror();
+        history.clear();
+        for (int n = 0; n < 120 && wrong < 20; n++) {
+            int k = draw(12);
+            if (k < 3) {
+                feedText(x, m, "pay " + between(0, 100_000));
+                callContractAsItStands(x, m);
+            } else if (k < 5) {
+                callContract(x, m);
+            } else if (k < 7) {
+                callContractAsItStands(x, m);
+            } else if (k < 10) {
+                callFeed(x, m);
+            } else if (k < 11) {
+                callEnd(x, m);
+            } else if (draw(4) == 0) {
+                callImage(x, m);
+            }
+        }
+        compare(x, m);
+    }
+
+    static void callFeed(ColdShips x, Mirror m) {
+        int[] five = new int[5];
+        StringBuilder bytes = new StringBuilder();
+        for (int i = 0; i < 5; i++) {
+            five[i] = wild();
+            for (int shift = 24; shift >= 0; shift -= 8) {
+                bytes.append((char) (five[i] >> shift & 255));
+            }
+        }
+        boolean room = m.tape.length() + 20 <= 400;
+        if (room) {
+            m.tape = m.tape + bytes;
+        }
+        int want = room ? m.tape.length() : -1;
+        history.add("feed(" + Arrays.toString(five) + ") = " + want);
+        same("feed", x.feed(five[0], five[1], five[2], five[3], five[4]), want);
+    }
+
+    static void callEnd(ColdShips x, Mirror m) {
+        int n = draw(3) == 0 ? wild() : between(-1, m.tape.length() + 1);
+        int want = -1;
+        if (in(n, 0, m.tape.length())) {
+            m.tape = m.tape.substring(0, n);
+            want = n;
+        }
+        history.add("end(" + n + ") = " + want);
+        same("end(" + n + ")", x.end(n), want);
     }
 
     /** Ships that go round with gas of several terminals, so that PARTS, TURNS and LANDINGS come in plenty. */
@@ -1625,6 +1687,9 @@ public final class MirrorTest {
         for (int n = 0; n < 3000 && wrong < 20; n++, run++) {
             history.clear();
             callContract(new ColdShips(), new Mirror());
+        }
+        for (int n = 0; n < 400 && wrong < 20; n++, run++) {
+            oneTape();
         }
         widestFleet();
         for (int n = 0; n < met.length; n++) {

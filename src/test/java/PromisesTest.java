@@ -1061,7 +1061,50 @@ public final class PromisesTest {
         due(x.status(), -5);
         due(x.fault(), -1);
         due(x.count(5), 12);
-        due(x.count(8), 3);
+        // The TAPE is empty behind a call for which there was no room, too; it was not read, so FAULT stays.
+        due(x.count(8), 0);
+        due(x.feed(0, 0, 0, 0, 0), 20);
+        due(x.contract(), -5);
+        due(x.contract(), -5);
+        due(x.count(8), 0);
+        due(x.count(5), 12);
+        due(x.fault(), -1);
+    }
+
+    private static void contractsWithoutRoom() {
+        promise = 24;
+        ColdShips x = new ColdShips();
+        for (int n = 0; n < 11; n++) {
+            due(contract(x, "pay 1"), n);
+        }
+        x.image(0);
+        due(contract(x, "pay 1 !"), -6);
+        due(x.count(8), 0);
+        due(x.fault(), 6);
+        due(contract(x, "pay 1"), 11);
+        due(x.fault(), -1);
+        x.back(0);
+        due(contract(x, "pay !"), -6);
+        x.image(1);
+        due(contract(x, "pay 2"), 11);
+        x.image(0);
+        x.back(1);
+        due(contract(x, "pay 1 !"), -6);
+        x.back(0);
+        // Neither a good TEXT nor one that can't be is read: FAULT stays that of the one ahead.
+        due(contract(x, "pay 1"), -5);
+        due(x.fault(), 6);
+        due(x.count(8), 0);
+        due(contract(x, "pay"), -5);
+        due(x.fault(), 6);
+        due(x.count(8), 0);
+        // What was on the TAPE is not found there again once there is room.
+        feed(x, "pay 1;");
+        due(x.contract(), -5);
+        x.back(1);
+        due(x.contract(), -6);
+        due(x.fault(), 0);
+        due(contract(x, "pay 7"), 11);
     }
 
     private static void faults() {
@@ -1911,6 +1954,7 @@ public final class PromisesTest {
         feeds();
         ends();
         contracts();
+        contractsWithoutRoom();
         faults();
         faultLimits();
         dues();
