@@ -1730,7 +1730,8 @@ public final class ColdShips {
         private void findFacts(int landing, Contract contract, int known) {
             int first = world.landings.number(landing, FIRST);
             int last = world.landings.number(landing, LAST);
-            boolean strays = contract.place != NONE && contract.place != world.landings.number(landing, TERMINAL);
+            // Without "at" the place is NONE, at which no LANDING ever is.
+            boolean strays = contract.place != world.landings.number(landing, TERMINAL);
             facts[FACT_TONS] = world.landings.at(landing, TONS);
             facts[FACT_BILLED] = world.billedOf(landing);
             facts[FACT_HEAT] = world.heatOf(landing);

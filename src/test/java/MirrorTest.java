@@ -267,7 +267,7 @@ public final class MirrorTest {
             t.read();
             long[] facts = {l.tons, l.bill < 0 ? l.tons : l.bill, heat(l), late(l, t.to, known),
                 Math.max(0, t.from - l.first), price(l.last / 24, known), l.last - l.first + 1,
-                t.at < 0 || t.at == l.terminal ? 0 : 1};
+                t.at == l.terminal ? 0 : 1};
             if (what >= 3) {
                 return what == 3 ? facts[3] : facts[5];
             }

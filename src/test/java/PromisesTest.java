@@ -1193,10 +1193,15 @@ public final class PromisesTest {
         due(dueOf("window 22 to 30;pay early"), 2);
         due(dueOf("window 20 to 30;pay early"), 0);
         due(dueOf("window 30 to 40;window 0 to 19;pay early*10+late"), 2);
-        due(dueOf("pay elsewhere"), 0);
+        due(dueOf("pay elsewhere"), 1);
+        due(dueOf("window 0 to 19;fine 7*elsewhere"), -7);
+        due(dueOf("pay 3 if elsewhere=1;fine 5 if not elsewhere=1"), 3);
         due(dueOf("at 1;pay elsewhere"), 0);
         due(dueOf("at 0;pay elsewhere"), 1);
+        due(dueOf("at 5;pay elsewhere"), 1);
         due(dueOf("at 0;pay elsewhere;at 1"), 0);
+        due(dueOf("pay elsewhere;at 1"), 0);
+        due(dueOf("at 1;pay elsewhere;at 0"), 1);
         due(dueOf("pay 2+3*4-5"), 9);
         due(dueOf("pay 10-3-2"), 5);
         due(dueOf("pay [2+3]*4"), 20);
@@ -1273,6 +1278,23 @@ public final class PromisesTest {
         ColdShips y = landed();
         due(y.settled(0, 0), NOTHING);
         due(y.landing(0, 6), 0);
+    }
+
+    private static void settlesElsewhere() {
+        promise = 28;
+        String[] texts = {"pay 9*elsewhere", "at 1;pay 9*elsewhere", "at 0;pay 9*elsewhere", "pay 9*elsewhere;at 1"};
+        long[] dues = {9, 0, 9, 0};
+        ColdShips x = landed();
+        for (String text : texts) {
+            contract(x, text);
+        }
+        x.image(0);
+        for (int c = 0; c < texts.length; c++) {
+            due(x.settle(0, c), 0);
+            due(x.settled(0, 0), dues[c]);
+            due(x.settled(0, 1), c);
+            due(x.back(0), 0);
+        }
     }
 
     private static void tables() {
@@ -1960,6 +1982,7 @@ public final class PromisesTest {
         dues();
         dueOfNone();
         settles();
+        settlesElsewhere();
         tables();
         lists();
         readings();
