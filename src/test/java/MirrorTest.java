@@ -6,6 +6,7 @@ import java.util.List;
 /**
  * Long rows of drawn calls (from a fixed seed) on the class and on a slow mirror of the document:
  * hour by hour, ton by ton, all rows of voyages tried, images by doing all calls again.
+ * No object is called more often than the 512 times that the document promises for.
  * Prints every call whose answers differ.
  */
 public final class MirrorTest {
@@ -1056,7 +1057,7 @@ public final class MirrorTest {
         }
     }
 
-    static int real(ColdShips x, String name, int[] a) {
+    static int real(Told x, String name, int[] a) {
         switch (name) {
             case "terminal": return x.terminal(a[0], a[1], a[2], a[3]);
             case "ship": return x.ship(a[0], a[1], a[2]);
@@ -1100,7 +1101,7 @@ public final class MirrorTest {
         return got == want;
     }
 
-    static void both(ColdShips x, Mirror m, String name, int... a) {
+    static void both(Told x, Mirror m, String name, int... a) {
         String call = name + Arrays.toString(a);
         long want = m.change(name, a);
         long got = real(x, name, a);
@@ -1109,7 +1110,7 @@ public final class MirrorTest {
         same("status() behind " + call, x.status(), m.status);
     }
 
-    static void compareShips(ColdShips x, State st) {
+    static void compareShips(Told x, State st) {
         for (int s = -1; s <= st.ships.size(); s++) {
             boolean is = s >= 0 && s < st.ships.size();
             MShip m = is ? st.ships.get(s) : new MShip();
@@ -1136,7 +1137,7 @@ public final class MirrorTest {
         }
     }
 
-    static void compareLandings(ColdShips x, State st) {
+    static void compareLandings(Told x, State st) {
         for (int l = -1; l <= st.landings.size(); l++) {
             boolean is = l >= 0 && l < st.landings.size();
             MLanding m = is ? st.landings.get(l) : new MLanding();
@@ -1172,7 +1173,7 @@ public final class MirrorTest {
         }
     }
 
-    static void compareVoyages(ColdShips x, Mirror m) {
+    static void compareVoyages(Told x, Mirror m) {
         for (int c = -1; c <= 6; c++) {
             boolean is = m.best != null && c >= 0 && c < m.best.ship.length;
             boolean sails = is && m.best.ship[c] >= 0;
@@ -1187,7 +1188,7 @@ public final class MirrorTest {
         }
     }
 
-    static void compare(ColdShips x, Mirror m) {
+    static void compare(Told x, Mirror m) {
         State st = m.st;
         int[] counts = {st.now, st.terminals.size(), st.ships.size(), st.slots.size(), st.landings.size(),
             st.contracts.size(), st.cargoes.size(), st.readings.size(), m.tape.length()};
@@ -1275,7 +1276,7 @@ public final class MirrorTest {
         return b.length() > 400 ? b.substring(0, 400) : b.toString();
     }
 
-    static void feedText(ColdShips x, Mirror m, String text) {
+    static void feedText(Told x, Mirror m, String text) {
         same("end(0)", x.end(0), 0);
         m.tape = "";
         StringBuilder padded = new StringBuilder(text);
@@ -1344,7 +1345,7 @@ public final class MirrorTest {
         }
     }
 
-    static void callBest(ColdShips x, Mirror m) {
+    static void callBest(Told x, Mirror m) {
         int from = draw(12) == 0 ? wild() : draw(5) == 0 ? between(0, 2399) : between(0, 60);
         long want = -1;
         if (in(from, 0, 2399)) {
@@ -1358,7 +1359,7 @@ public final class MirrorTest {
         compareVoyages(x, m);
     }
 
-    static void callJudge(ColdShips x, Mirror m) {
+    static void callJudge(Told x, Mirror m) {
         int[] row = {between(-1, 6), between(-1, 6), between(-1, 6)};
         int ship = between(-1, 4);
         int from = draw(12) == 0 ? wild() : between(0, 60);
@@ -1368,12 +1369,12 @@ public final class MirrorTest {
                 x.judge(ship, row[0], row[1], row[2], from), want);
     }
 
-    static void callContract(ColdShips x, Mirror m) {
+    static void callContract(Told x, Mirror m) {
         feedText(x, m, drawText());
         callContractAsItStands(x, m);
     }
 
-    static void callContractAsItStands(ColdShips x, Mirror m) {
+    static void callContractAsItStands(Told x, Mirror m) {
         int had = m.tape.length();
         int want = m.contract();
         history.add("contract() = " + want + ", fault " + m.fault);
@@ -1387,11 +1388,11 @@ public final class MirrorTest {
         met[16] += want == -5 && had > 0 ? 1 : 0;
     }
 
-    static void callImage(ColdShips x, Mirror m) {
+    static void callImage(Told x, Mirror m) {
         callBack(x, m, draw(2) == 0, draw(8) == 0 ? wild() : draw(2));
     }
 
-    static void callBack(ColdShips x, Mirror m, boolean back, int k) {
+    static void callBack(Told x, Mirror m, boolean back, int k) {
         int want = back ? m.back(k) : m.image(k);
         history.add((back ? "back(" : "image(") + k + ") = " + want);
         same(back ? "back" : "image", back ? x.back(k) : x.image(k), want);
@@ -1403,7 +1404,7 @@ public final class MirrorTest {
         "slot", "cargo", "cargo", "way", "reading", "reading", "table", "table", "price", "settle", "bill"};
 
     static void oneRun(int calls) {
-        ColdShips x = new ColdShips();
+        Told x = new Told();
         Mirror m = new Mirror();
         history.clear();
         int terminals = between(1, 5);
@@ -1420,7 +1421,7 @@ public final class MirrorTest {
                 }
             }
         }
-        for (int n = 0; n < calls && wrong < 20; n++) {
+        for (int n = 0; n < calls && wrong < 20 && x.room() > 150; n++) {
             int k = draw(60);
             if (k == 0) {
                 callBest(x, m);
@@ -1451,10 +1452,10 @@ public final class MirrorTest {
 
     /** A TAPE that is fed, cut and read till there is no more room for CONTRACTS, and gone back from. */
     static void oneTape() {
-        ColdShips x = new ColdShips();
+        Told x = new Told();
         Mirror m = new Mirror();
         history.clear();
-        for (int n = 0; n < 120 && wrong < 20; n++) {
+        for (int n = 0; n < 120 && wrong < 20 && x.room() > 60; n++) {
             int k = draw(12);
             if (k < 3) {
                 feedText(x, m, "pay " + between(0, 100_000));
@@ -1474,7 +1475,7 @@ public final class MirrorTest {
         compare(x, m);
     }
 
-    static void callFeed(ColdShips x, Mirror m) {
+    static void callFeed(Told x, Mirror m) {
         int[] five = new int[5];
         StringBuilder bytes = new StringBuilder();
         for (int i = 0; i < 5; i++) {
@@ -1492,7 +1493,7 @@ public final class MirrorTest {
         same("feed", x.feed(five[0], five[1], five[2], five[3], five[4]), want);
     }
 
-    static void callEnd(ColdShips x, Mirror m) {
+    static void callEnd(Told x, Mirror m) {
         int n = draw(3) == 0 ? wild() : between(-1, m.tape.length() + 1);
         int want = -1;
         if (in(n, 0, m.tape.length())) {
@@ -1505,33 +1506,33 @@ public final class MirrorTest {
 
     /** Ships that go round with gas of several terminals, so that PARTS, TURNS and LANDINGS come in plenty. */
     static void oneTrade() {
-        ColdShips x = new ColdShips();
+        Told x = new Told();
         Mirror m = new Mirror();
         history.clear();
-        build(x, m);
+        build(x, m, 60, 4);
         trade(x, m, 60);
     }
 
     /** All is gone back to from where other terminals and ships stand under the same numbers. */
     static void oneRebuilt() {
-        ColdShips x = new ColdShips();
+        Told x = new Told();
         Mirror m = new Mirror();
         history.clear();
         callBack(x, m, false, 0);
-        build(x, m);
-        trade(x, m, between(1, 12));
+        build(x, m, 24, 1);
+        trade(x, m, between(1, 8));
         callBack(x, m, false, 1);
         callBack(x, m, true, 0);
         compare(x, m);
-        build(x, m);
+        build(x, m, 24, 1);
         compare(x, m);
-        trade(x, m, between(1, 12));
+        trade(x, m, between(1, 8));
         callBack(x, m, true, 1);
         compare(x, m);
         trade(x, m, 6);
     }
 
-    static void build(ColdShips x, Mirror m) {
+    static void build(Told x, Mirror m, int slots, int contracts) {
         int terminals = between(2, 6);
         for (int t = 0; t < terminals; t++) {
             int cap = between(500, 60000);
@@ -1550,7 +1551,7 @@ public final class MirrorTest {
         int[] limits = {9, 19, 49, 99, 199, 499, 999, 1000};
         both(x, m, "terms", draw(3) == 0 ? 0 : between(0, 100),
                 draw(2) == 0 ? limits[draw(8)] : between(1, draw(2) == 0 ? 20 : 1000));
-        for (int n = 0; n < 60; n++) {
+        for (int n = 0; n < slots; n++) {
             int from = n / terminals * 12;
             both(x, m, "slot", n % terminals, ships == 1 ? 0 : draw(ships), from, from + 11);
         }
@@ -1558,13 +1559,13 @@ public final class MirrorTest {
             both(x, m, "sea", day, draw(10));
         }
         both(x, m, "tide", draw(25), draw(10));
-        for (int n = 0; n < 5; n++) {
+        for (int n = 0; n < contracts; n++) {
             callContract(x, m);
         }
     }
 
-    static void trade(ColdShips x, Mirror m, int steps) {
-        for (int n = 0; n < steps && wrong < 20; n++) {
+    static void trade(Told x, Mirror m, int steps) {
+        for (int n = 0; n < steps && wrong < 20 && x.room() > 120; n++) {
             int ships = m.st.ships.size();
             int terminals = m.st.terminals.size();
             for (int s = 0; s < ships && n % 3 == 0; s++) {
@@ -1587,7 +1588,7 @@ public final class MirrorTest {
 
     /** Cargoes in plenty, so that many rows of voyages can be. */
     static void oneFleet() {
-        ColdShips x = new ColdShips();
+        Told x = new Told();
         Mirror m = new Mirror();
         history.clear();
         int terminals = between(2, 4);
@@ -1624,7 +1625,7 @@ public final class MirrorTest {
 
     /** Few sorts of cargoes, so that many rows have the same WORTH. */
     static void alikeFleet() {
-        ColdShips x = new ColdShips();
+        Told x = new Told();
         Mirror m = new Mirror();
         history.clear();
         int terminals = between(2, 3);
@@ -1651,7 +1652,7 @@ public final class MirrorTest {
 
     /** What a BEST has at the most: three ships, six cargoes, all rows can be. */
     static void widestFleet() {
-        ColdShips x = new ColdShips();
+        Told x = new Told();
         Mirror m = new Mirror();
         for (int t = 0; t < 3; t++) {
             both(x, m, "terminal", 0, 100, 100, 10);
@@ -1686,7 +1687,7 @@ public final class MirrorTest {
         }
         for (int n = 0; n < 3000 && wrong < 20; n++, run++) {
             history.clear();
-            callContract(new ColdShips(), new Mirror());
+            callContract(new Told(), new Mirror());
         }
         for (int n = 0; n < 400 && wrong < 20; n++, run++) {
             oneTape();

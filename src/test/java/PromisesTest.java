@@ -17,7 +17,7 @@ public final class PromisesTest {
     }
 
     /** Feeds a text, whose contract() is asked next. */
-    private static void feed(ColdShips x, String text) {
+    private static void feed(Told x, String text) {
         x.end(0);
         for (int i = 0; i < text.length(); i += 20) {
             int[] five = new int[5];
@@ -29,21 +29,21 @@ public final class PromisesTest {
         x.end(text.length());
     }
 
-    private static int contract(ColdShips x, String text) {
+    private static int contract(Told x, String text) {
         feed(x, text);
         return x.contract();
     }
 
     /** The place of the FAULT of a text, NONE without. */
     private static int faultOf(String text) {
-        ColdShips x = new ColdShips();
+        Told x = new Told();
         int got = contract(x, text);
         return got == 0 && x.fault() == ColdShips.NONE || got == -6 ? x.fault() : -99;
     }
 
     /** Two terminals ten hours apart, ship 0 (10,000 tons) at terminal 0 with slots at both, nothing boils. */
-    private static ColdShips harbour(int fuel) {
-        ColdShips x = new ColdShips();
+    private static Told harbour(int fuel) {
+        Told x = new Told();
         x.terminal(100_000, 200_000, 400, 30);
         x.terminal(0, 100_000, 300, 30);
         x.ship(0, 10_000, fuel);
@@ -55,8 +55,8 @@ public final class PromisesTest {
     }
 
     /** LANDING 0: 600 tons at terminal 1, from HOUR 18 to 19; NOW is 20. */
-    private static ColdShips landed() {
-        ColdShips x = harbour(1);
+    private static Told landed() {
+        Told x = harbour(1);
         x.order(0, 1, 1000);
         x.order(0, 0, 1);
         x.order(0, 2, 600);
@@ -68,7 +68,7 @@ public final class PromisesTest {
 
     private static void newObject() {
         promise = 1;
-        ColdShips x = new ColdShips();
+        Told x = new Told();
         for (int what = 0; what <= 8; what++) {
             due(x.count(what), 0);
         }
@@ -83,7 +83,7 @@ public final class PromisesTest {
 
     private static void terminals() {
         promise = 2;
-        ColdShips x = new ColdShips();
+        Told x = new Told();
         due(x.terminal(-1, 10, 1, 0), -1);
         due(x.terminal(11, 10, 1, 0), -1);
         due(x.terminal(0, 500_001, 1, 0), -1);
@@ -108,7 +108,7 @@ public final class PromisesTest {
 
     private static void ships() {
         promise = 3;
-        ColdShips x = new ColdShips();
+        Told x = new Told();
         due(x.ship(0, 1000, 1), -2);
         due(x.ship(0, 999, 1), -1);
         x.terminal(0, 0, 1, 0);
@@ -133,7 +133,7 @@ public final class PromisesTest {
 
     private static void ways() {
         promise = 4;
-        ColdShips x = harbour(1);
+        Told x = harbour(1);
         due(x.way(0, 1, 0, false), -1);
         due(x.way(0, 1, 401, false), -1);
         due(x.way(0, 2, 5, false), -2);
@@ -156,7 +156,7 @@ public final class PromisesTest {
 
     private static void wayWaits() {
         promise = 4;
-        ColdShips x = new ColdShips();
+        Told x = new Told();
         x.terminal(0, 0, 1, 0);
         x.terminal(0, 0, 1, 0);
         x.ship(0, 1000, 1);
@@ -172,7 +172,7 @@ public final class PromisesTest {
 
     private static void tides() {
         promise = 5;
-        ColdShips x = harbour(1);
+        Told x = harbour(1);
         due(x.tide(-1, 0), -1);
         due(x.tide(25, 0), -1);
         due(x.tide(0, -1), -1);
@@ -181,7 +181,7 @@ public final class PromisesTest {
         due(x.tide(0, 0), 0);
         due(x.tide(24, 9), 0);
         due(x.status(), 0);
-        ColdShips y = new ColdShips();
+        Told y = new Told();
         y.terminal(1000, 1000, 40, 6);
         y.ship(0, 1000, 1);
         y.slot(0, 0, 0, 2399);
@@ -200,7 +200,7 @@ public final class PromisesTest {
 
     private static void seas() {
         promise = 6;
-        ColdShips x = harbour(1);
+        Told x = harbour(1);
         due(x.sea(-1, 0), -1);
         due(x.sea(100, 0), -1);
         due(x.sea(0, -1), -1);
@@ -224,7 +224,7 @@ public final class PromisesTest {
 
     private static void slots() {
         promise = 7;
-        ColdShips x = new ColdShips();
+        Told x = new Told();
         x.terminal(1000, 1000, 40, 30);
         x.terminal(1000, 1000, 40, 30);
         x.ship(0, 1000, 1);
@@ -261,7 +261,7 @@ public final class PromisesTest {
 
     private static void brokenArms() {
         promise = 8;
-        ColdShips x = harbour(1);
+        Told x = harbour(1);
         due(x.broken(0, -1, 3), -1);
         due(x.broken(0, 4, 3), -1);
         due(x.broken(0, 4, 2400), -1);
@@ -285,7 +285,7 @@ public final class PromisesTest {
 
     private static void terms() {
         promise = 9;
-        ColdShips x = harbour(1);
+        Told x = harbour(1);
         due(x.terms(-1, 1), -1);
         due(x.terms(101, 1), -1);
         due(x.terms(0, 0), -1);
@@ -294,7 +294,7 @@ public final class PromisesTest {
         due(x.terms(100, 1), 0);
         due(x.terms(0, 1000), 0);
         // At first 10 hundred-thousandths boil: one ton of 10,000.
-        ColdShips y = new ColdShips();
+        Told y = new Told();
         y.terminal(20_000, 20_000, 10_000, 30);
         y.ship(0, 11_000, 1);
         y.slot(0, 0, 0, 9);
@@ -316,7 +316,7 @@ public final class PromisesTest {
 
     private static void orders() {
         promise = 10;
-        ColdShips x = harbour(1);
+        Told x = harbour(1);
         due(x.order(0, -1, 1), -1);
         due(x.order(0, 4, 1), -1);
         due(x.order(0, 1, 0), -1);
@@ -350,7 +350,7 @@ public final class PromisesTest {
 
     private static void ordersInAll() {
         promise = 10;
-        ColdShips x = harbour(1);
+        Told x = harbour(1);
         for (int n = 0; n < 400; n++) {
             due(x.order(0, 3, 0), n % 20 + 1);
             if (n % 20 == 19) {
@@ -364,7 +364,7 @@ public final class PromisesTest {
 
     private static void hours() {
         promise = 11;
-        ColdShips x = harbour(1);
+        Told x = harbour(1);
         due(x.go(0), -1);
         due(x.go(-1), -1);
         due(x.go(481), -1);
@@ -383,7 +383,7 @@ public final class PromisesTest {
     /** A SAIL to where the ship is, and a WAIT for an HOUR gone by, take an HOUR each. */
     private static void oneOrderAnHour() {
         promise = 11;
-        ColdShips x = harbour(1);
+        Told x = harbour(1);
         x.order(0, 0, 0);
         x.order(0, 3, 0);
         x.order(0, 1, 5);
@@ -400,7 +400,7 @@ public final class PromisesTest {
 
     private static void warmth() {
         promise = 11;
-        ColdShips x = harbour(1);
+        Told x = harbour(1);
         x.order(0, 1, 9000);
         x.go(1);
         due(x.of(0, 2), 100);
@@ -423,7 +423,7 @@ public final class PromisesTest {
 
     private static void heelAndTop() {
         promise = 11;
-        ColdShips x = new ColdShips();
+        Told x = new Told();
         x.terminal(5000, 5000, 4000, 30);
         x.terminal(0, 5000, 4000, 30);
         x.ship(0, 1050, 1);
@@ -457,7 +457,7 @@ public final class PromisesTest {
 
     private static void emptyStore() {
         promise = 11;
-        ColdShips x = new ColdShips();
+        Told x = new Told();
         x.terminal(0, 5000, 2, 30);
         x.ship(0, 1000, 1);
         x.slot(0, 0, 1, 99);
@@ -468,7 +468,7 @@ public final class PromisesTest {
         due(x.of(0, 6), 0);
         due(x.book(0, 0), 0);
         // A fourth of a RATE of 2 is one at least.
-        ColdShips y = new ColdShips();
+        Told y = new Told();
         y.terminal(10, 5000, 2, 30);
         y.ship(0, 1000, 1);
         y.slot(0, 0, 0, 99);
@@ -479,7 +479,7 @@ public final class PromisesTest {
 
     private static void drifting() {
         promise = 11;
-        ColdShips x = harbour(40);
+        Told x = harbour(40);
         x.order(0, 1, 100);
         x.order(0, 0, 1);
         x.go(1);
@@ -506,7 +506,7 @@ public final class PromisesTest {
     /** One that drifts leaves all the same; HOURS left do not become less. */
     private static void driftsOut() {
         promise = 11;
-        ColdShips x = harbour(4);
+        Told x = harbour(4);
         x.order(0, 0, 1);
         x.go(1);
         due(x.of(0, 0), 1);
@@ -514,8 +514,8 @@ public final class PromisesTest {
         due(x.of(0, 9), 1);
     }
 
-    private static ColdShips canal(int ships) {
-        ColdShips x = new ColdShips();
+    private static Told canal(int ships) {
+        Told x = new Told();
         x.terminal(5000, 5000, 400, 30);
         x.terminal(0, 5000, 400, 30);
         x.terms(0, 1000);
@@ -531,7 +531,7 @@ public final class PromisesTest {
 
     private static void turns() {
         promise = 11;
-        ColdShips x = canal(2);
+        Told x = canal(2);
         x.order(0, 0, 1);
         x.order(1, 0, 1);
         x.go(3);
@@ -557,7 +557,7 @@ public final class PromisesTest {
     /** A ship that can't go on anyway takes no TURN; a WAY of one HOUR needs none. */
     private static void noTurn() {
         promise = 11;
-        ColdShips x = new ColdShips();
+        Told x = new Told();
         x.terminal(5000, 5000, 400, 30);
         x.terminal(0, 5000, 400, 30);
         x.way(0, 1, 4, true);
@@ -575,7 +575,7 @@ public final class PromisesTest {
         due(x.of(0, 1), 2);
         due(x.of(0, 9), 1);
         due(x.of(1, 1), 1);
-        ColdShips y = canal(1);
+        Told y = canal(1);
         y.way(0, 1, 1, true);
         y.order(0, 0, 1);
         y.go(1);
@@ -586,7 +586,7 @@ public final class PromisesTest {
     /** A WAY told anew is for those that leave later. */
     private static void wayToldAnew() {
         promise = 11;
-        ColdShips x = canal(1);
+        Told x = canal(1);
         x.order(0, 0, 1);
         x.go(1);
         x.way(0, 1, 50, false);
@@ -598,7 +598,7 @@ public final class PromisesTest {
 
     private static void draft() {
         promise = 12;
-        ColdShips x = new ColdShips();
+        Told x = new Told();
         x.terminal(5000, 5000, 4000, 12);
         x.ship(0, 1000, 1);
         x.terms(0, 1000);
@@ -626,7 +626,7 @@ public final class PromisesTest {
 
     private static void pressure() {
         promise = 12;
-        ColdShips x = new ColdShips();
+        Told x = new Told();
         x.terminal(5000, 5000, 4000, 30);
         x.ship(0, 1000, 1);
         x.terms(100, 1000);
@@ -658,7 +658,7 @@ public final class PromisesTest {
     /** PRESS 100 with five tons in a space of fifty is above 99: one ton is vented, and no more. */
     private static void ventsJustEnough() {
         promise = 11;
-        ColdShips x = new ColdShips();
+        Told x = new Told();
         x.terminal(5000, 5000, 4000, 30);
         x.ship(0, 1000, 1);
         x.terms(100, 1000);
@@ -682,7 +682,7 @@ public final class PromisesTest {
     /** The LIMIT is 700 at first: a full ship in high seas is kept at it. */
     private static void limitAtFirst() {
         promise = 11;
-        ColdShips x = new ColdShips();
+        Told x = new Told();
         x.terminal(500_000, 500_000, 10_000, 30);
         x.ship(0, 200_000, 1);
         x.slot(0, 0, 0, 999);
@@ -698,7 +698,7 @@ public final class PromisesTest {
     /** What is BOILED and COOLED is cut: just below a whole ton it is one less. */
     private static void cutTons() {
         promise = 11;
-        ColdShips x = new ColdShips();
+        Told x = new Told();
         x.terminal(500_000, 500_000, 10_000, 30);
         x.ship(0, 199_999, 1);
         x.slot(0, 0, 0, 999);
@@ -711,7 +711,7 @@ public final class PromisesTest {
         x.go(1);
         // 20 tenths times 199,999 / 100,000.
         due(x.of(0, 3), 39);
-        ColdShips y = new ColdShips();
+        Told y = new Told();
         y.terminal(500_000, 500_000, 10_000, 30);
         y.ship(0, 3000, 1);
         y.slot(0, 0, 0, 999);
@@ -735,7 +735,7 @@ public final class PromisesTest {
     /** 23 tons in a space of 51 have PRESS 450, as many as there may be just below 451. */
     private static void ventsNoneTooMany() {
         promise = 11;
-        ColdShips x = new ColdShips();
+        Told x = new Told();
         x.terminal(5000, 5000, 4000, 30);
         x.ship(0, 1000, 1);
         x.terms(100, 1000);
@@ -756,8 +756,8 @@ public final class PromisesTest {
         due(x.of(0, 3), 22);
     }
 
-    private static ColdShips mixed() {
-        ColdShips x = new ColdShips();
+    private static Told mixed() {
+        Told x = new Told();
         for (int t = 0; t < 3; t++) {
             x.terminal(5000, 50_000, 400, 30);
         }
@@ -778,7 +778,7 @@ public final class PromisesTest {
 
     private static void parts() {
         promise = 13;
-        ColdShips x = mixed();
+        Told x = mixed();
         x.go(1);
         due(x.part(0, 0), 100);
         x.go(1);
@@ -800,7 +800,7 @@ public final class PromisesTest {
     /** Of alike rests the lower gives. */
     private static void alikeRests() {
         promise = 13;
-        ColdShips x = new ColdShips();
+        Told x = new Told();
         x.terminal(5000, 50_000, 400, 30);
         x.terminal(5000, 50_000, 400, 30);
         x.ship(1, 10_000, 4);
@@ -824,7 +824,7 @@ public final class PromisesTest {
 
     private static void book() {
         promise = 14;
-        ColdShips x = mixed();
+        Told x = mixed();
         x.go(6);
         due(x.book(0, 0), 300);
         due(x.book(0, 1), 5);
@@ -838,7 +838,7 @@ public final class PromisesTest {
 
     private static void store() {
         promise = 15;
-        ColdShips x = mixed();
+        Told x = mixed();
         x.go(6);
         due(x.store(0), 4900);
         due(x.store(1), 4800);
@@ -849,7 +849,7 @@ public final class PromisesTest {
 
     private static void landings() {
         promise = 16;
-        ColdShips x = mixed();
+        Told x = mixed();
         x.go(6);
         x.heat(0, 500);
         x.heat(1, 2000);
@@ -870,7 +870,7 @@ public final class PromisesTest {
     /** An HOUR between in which no tons go stays out of a LANDING's first and last HOUR; 60 are kept, orders go on. */
     private static void mostLandings() {
         promise = 16;
-        ColdShips x = harbour(1);
+        Told x = harbour(1);
         x.order(0, 1, 9000);
         x.go(100);
         due(x.of(0, 6), 0);
@@ -895,7 +895,7 @@ public final class PromisesTest {
 
     private static void led() {
         promise = 17;
-        ColdShips x = mixed();
+        Told x = mixed();
         x.go(6);
         due(x.led(0, 0), 16);
         due(x.led(0, 1), 34);
@@ -907,7 +907,7 @@ public final class PromisesTest {
 
     private static void heat() {
         promise = 18;
-        ColdShips x = landed();
+        Told x = landed();
         due(x.heat(0, 499), -1);
         due(x.heat(0, 2001), -1);
         due(x.heat(9, 499), -1);
@@ -921,7 +921,7 @@ public final class PromisesTest {
 
     private static void prices() {
         promise = 19;
-        ColdShips x = landed();
+        Told x = landed();
         contract(x, "pay price");
         due(x.price(-1, 0, 0), -1);
         due(x.price(100, 0, 0), -1);
@@ -948,7 +948,7 @@ public final class PromisesTest {
     /** Of the days that are not behind, the latest one's price counts. */
     private static void latestDay() {
         promise = 19;
-        ColdShips x = harbour(1);
+        Told x = harbour(1);
         x.order(0, 1, 1000);
         x.go(49);
         x.order(0, 0, 1);
@@ -967,7 +967,7 @@ public final class PromisesTest {
 
     private static void force() {
         promise = 20;
-        ColdShips x = landed();
+        Told x = landed();
         contract(x, "window 0 to 5; fine late");
         due(x.force(-1, 0, 0), -1);
         due(x.force(1, 0, 0), -1);
@@ -996,7 +996,7 @@ public final class PromisesTest {
 
     private static void bills() {
         promise = 21;
-        ColdShips x = landed();
+        Told x = landed();
         contract(x, "pay billed; fine tons");
         due(x.due(0, 0, 0, 0), 0);
         due(x.bill(0, -1), -1);
@@ -1014,7 +1014,7 @@ public final class PromisesTest {
 
     private static void feeds() {
         promise = 22;
-        ColdShips x = new ColdShips();
+        Told x = new Told();
         for (int n = 1; n <= 20; n++) {
             due(x.feed(MIN, MAX, -1, 0, 1), 20 * n);
         }
@@ -1033,7 +1033,7 @@ public final class PromisesTest {
 
     private static void ends() {
         promise = 23;
-        ColdShips x = new ColdShips();
+        Told x = new Told();
         due(x.end(0), 0);
         due(x.end(1), -1);
         due(x.end(-1), -1);
@@ -1048,7 +1048,7 @@ public final class PromisesTest {
 
     private static void contracts() {
         promise = 24;
-        ColdShips x = new ColdShips();
+        Told x = new Told();
         due(x.contract(), -6);
         due(x.status(), -6);
         for (int n = 0; n < 12; n++) {
@@ -1073,7 +1073,7 @@ public final class PromisesTest {
 
     private static void contractsWithoutRoom() {
         promise = 24;
-        ColdShips x = new ColdShips();
+        Told x = new Told();
         for (int n = 0; n < 11; n++) {
             due(contract(x, "pay 1"), n);
         }
@@ -1165,7 +1165,7 @@ public final class PromisesTest {
         due(faultOf("pay 1 if " + "(".repeat(4) + "[".repeat(5) + "1" + "]".repeat(5) + "=1" + ")".repeat(4)), 17);
         due(faultOf("pay 1 if " + "not ".repeat(96) + "1=1"), -1);
         due(faultOf("pay [1]*[[1]]+[1] if ([1]=1) and (1=1)"), -1);
-        ColdShips x = new ColdShips();
+        Told x = new Told();
         due(x.fault(), -1);
         contract(x, "pay !");
         due(x.fault(), 4);
@@ -1174,7 +1174,7 @@ public final class PromisesTest {
     }
 
     private static long dueOf(String text) {
-        ColdShips x = landed();
+        Told x = landed();
         x.price(0, 3, 0);
         x.bill(0, 610);
         return contract(x, text) == 0 ? x.due(0, 0, 0, 0) : -99;
@@ -1232,7 +1232,7 @@ public final class PromisesTest {
 
     private static void dueOfNone() {
         promise = 26;
-        ColdShips x = landed();
+        Told x = landed();
         contract(x, "window 0 to 20;pay 5;fine 7");
         due(x.due(0, 0, 0, 0), -2);
         due(x.due(0, 0, 0, 1), 5);
@@ -1251,7 +1251,7 @@ public final class PromisesTest {
 
     private static void settles() {
         promise = 27;
-        ColdShips x = landed();
+        Told x = landed();
         due(x.settle(0, 0), -2);
         contract(x, "pay price");
         contract(x, "pay 5");
@@ -1275,7 +1275,7 @@ public final class PromisesTest {
         due(x.settled(0, 3), NOTHING);
         due(x.settled(0, -1), NOTHING);
         due(x.settled(1, 0), NOTHING);
-        ColdShips y = landed();
+        Told y = landed();
         due(y.settled(0, 0), NOTHING);
         due(y.landing(0, 6), 0);
     }
@@ -1284,7 +1284,7 @@ public final class PromisesTest {
         promise = 28;
         String[] texts = {"pay 9*elsewhere", "at 1;pay 9*elsewhere", "at 0;pay 9*elsewhere", "pay 9*elsewhere;at 1"};
         long[] dues = {9, 0, 9, 0};
-        ColdShips x = landed();
+        Told x = landed();
         for (String text : texts) {
             contract(x, text);
         }
@@ -1299,7 +1299,7 @@ public final class PromisesTest {
 
     private static void tables() {
         promise = 29;
-        ColdShips x = landed();
+        Told x = landed();
         due(x.table(0, -1, 0, 0), -1);
         due(x.table(0, 4, 0, 0), -1);
         due(x.table(0, 0, -1, 0), -1);
@@ -1329,8 +1329,8 @@ public final class PromisesTest {
         due(x.status(), 0);
     }
 
-    private static ColdShips gauge() {
-        ColdShips x = landed();
+    private static Told gauge() {
+        Told x = landed();
         x.table(0, 0, 10, 7);
         x.table(0, 1, 100, 1000);
         x.table(0, 2, 200, 2000);
@@ -1340,7 +1340,7 @@ public final class PromisesTest {
 
     private static void lists() {
         promise = 30;
-        ColdShips x = gauge();
+        Told x = gauge();
         due(x.list(0, -51), -1);
         due(x.list(0, 51), -1);
         due(x.list(9, 51), -1);
@@ -1364,7 +1364,7 @@ public final class PromisesTest {
 
     private static void readings() {
         promise = 31;
-        ColdShips x = gauge();
+        Told x = gauge();
         due(x.reading(0, -1, 0, 0, 0), -1);
         due(x.reading(0, 2, 0, 0, 0), -1);
         due(x.reading(0, 0, -1, 0, 0), -1);
@@ -1393,7 +1393,7 @@ public final class PromisesTest {
 
     private static void gauged() {
         promise = 32;
-        ColdShips x = gauge();
+        Told x = gauge();
         due(x.gauged(0, 0, 0), NOTHING);
         x.reading(0, 0, 155, 0, 3);
         due(x.gauged(0, 3, 0), 1550);
@@ -1419,8 +1419,8 @@ public final class PromisesTest {
     }
 
     /** Three terminals (RATES 100, 100, 50), ships at 0 and 2, no boiling. */
-    private static ColdShips fleet() {
-        ColdShips x = new ColdShips();
+    private static Told fleet() {
+        Told x = new Told();
         x.terminal(0, 0, 100, 0);
         x.terminal(0, 0, 100, 0);
         x.terminal(0, 0, 50, 0);
@@ -1434,7 +1434,7 @@ public final class PromisesTest {
 
     private static void cargoes() {
         promise = 33;
-        ColdShips x = fleet();
+        Told x = fleet();
         due(x.cargo(0, 1, -1, 0, 0, 0, 1, 0), -1);
         due(x.cargo(0, 1, 1, 0, 0, 0, 1, 0), -1);
         due(x.cargo(0, 1, 0, 2400, 0, 0, 1, 0), -1);
@@ -1467,7 +1467,7 @@ public final class PromisesTest {
 
     private static void best() {
         promise = 35;
-        ColdShips x = fleet();
+        Told x = fleet();
         due(x.best(-1), -1);
         due(x.best(2400), -1);
         due(x.best(0), 0);
@@ -1491,7 +1491,7 @@ public final class PromisesTest {
     /** Of alike ones the first as a row of numbers: the SHIPS first, then the places. */
     private static void alikeBest() {
         promise = 35;
-        ColdShips x = new ColdShips();
+        Told x = new Told();
         x.terminal(0, 0, 100, 0);
         x.terminal(0, 0, 100, 0);
         for (int s = 0; s < 4; s++) {
@@ -1531,7 +1531,7 @@ public final class PromisesTest {
     /** One cargo of 1500 is ahead of two of 1500 together, also if its number is greater. */
     private static void fewestCargoes() {
         promise = 35;
-        ColdShips x = new ColdShips();
+        Told x = new Told();
         x.terminal(0, 0, 100, 0);
         x.terminal(0, 0, 100, 0);
         x.ship(0, 1000, 1);
@@ -1551,7 +1551,7 @@ public final class PromisesTest {
 
     private static void voyages() {
         promise = 36;
-        ColdShips x = fleet();
+        Told x = fleet();
         x.cargo(0, 1, 5, 10, 30, 50, 200, 20);
         x.cargo(1, 2, 0, 99, 0, 99, 130, 40);
         x.cargo(0, 2, 0, 99, 0, 99, 130, 40);
@@ -1590,7 +1590,7 @@ public final class PromisesTest {
 
     private static void judges() {
         promise = 37;
-        ColdShips x = fleet();
+        Told x = fleet();
         x.cargo(0, 1, 5, 10, 0, 50, 200, 20);
         x.cargo(1, 2, 0, 40, 0, 99, 130, 40);
         x.cargo(2, 1, 0, 99, 0, 99, 100, 50);
@@ -1628,7 +1628,7 @@ public final class PromisesTest {
 
     private static void judgeEdges() {
         promise = 37;
-        ColdShips x = fleet();
+        Told x = fleet();
         x.cargo(0, 1, 2387, 2387, 2398, 2399, 100, 20);
         x.cargo(0, 1, 2386, 2387, 2399, 2399, 101, 20);
         x.cargo(0, 1, 0, 2399, 0, 2399, 980, 20);
@@ -1645,7 +1645,7 @@ public final class PromisesTest {
         x.terms(100, 700);
         // 980 tons, from HOUR 0 up to 20: 19 are boiled.
         due(x.judge(0, 2, -1, -1, 0), (980 - 19) * 20 - 1000);
-        ColdShips y = fleet();
+        Told y = fleet();
         for (int s = 2; s < 4; s++) {
             y.ship(0, 1000, 1);
         }
@@ -1661,7 +1661,7 @@ public final class PromisesTest {
     /** 200 tons for 50 HOURS at 10 are just 100,000: one ton; and no more boil than there are. */
     private static void boiledOnPaper() {
         promise = 37;
-        ColdShips x = fleet();
+        Told x = fleet();
         x.cargo(0, 1, 0, 0, 50, 60, 200, 10);
         x.cargo(0, 1, 0, 0, 49, 60, 200, 10);
         x.cargo(0, 1, 0, 0, 2399, 2399, 50, 1000);
@@ -1674,7 +1674,7 @@ public final class PromisesTest {
 
     private static void images() {
         promise = 38;
-        ColdShips x = landed();
+        Told x = landed();
         due(x.image(-1), -1);
         due(x.image(2), -1);
         due(x.back(2), -1);
@@ -1742,7 +1742,7 @@ public final class PromisesTest {
     /** A ship under way, a LANDING under way, and orders given are gone back to as well. */
     private static void imagesUnderWay() {
         promise = 39;
-        ColdShips x = harbour(1);
+        Told x = harbour(1);
         x.order(0, 1, 1000);
         x.order(0, 0, 1);
         x.order(0, 2, 600);
@@ -1763,7 +1763,7 @@ public final class PromisesTest {
     /** Ships and terminals made anew under a number have nothing of those that were gone back behind. */
     private static void bornAnew() {
         promise = 39;
-        ColdShips x = new ColdShips();
+        Told x = new Told();
         x.image(0);
         x.terminal(5000, 5000, 400, 30);
         x.terminal(5000, 6000, 400, 30);
@@ -1821,7 +1821,7 @@ public final class PromisesTest {
     /** LIMIT, the orders given, and a LANDING's HOURS so far are gone back to as well. */
     private static void backInTheMidst() {
         promise = 39;
-        ColdShips x = harbour(1);
+        Told x = harbour(1);
         x.order(0, 1, 1000);
         x.order(0, 0, 1);
         x.order(0, 2, 700);
@@ -1841,10 +1841,14 @@ public final class PromisesTest {
         due(x.landing(0, 3), 24);
         due(x.count(4), 1);
         x.image(1);
+        // Three orders were given ahead of the image.
         for (int n = 0; n < 397; n++) {
-            x.order(0, 3, 0);
-            x.go(1);
+            due(x.order(0, 3, 0), n % 20 + 1);
+            if (n % 20 == 19) {
+                x.go(20);
+            }
         }
+        x.go(20);
         due(x.order(0, 3, 0), -5);
         x.back(1);
         due(x.order(0, 3, 0), 1);
@@ -1853,7 +1857,7 @@ public final class PromisesTest {
     /** The last HOUR of a LANDING under way is gone back to, though no tons go any more. */
     private static void backToItsLastHour() {
         promise = 39;
-        ColdShips x = new ColdShips();
+        Told x = new Told();
         x.terminal(5000, 5000, 400, 30);
         x.terminal(0, 600, 300, 30);
         x.ship(0, 10_000, 1);
@@ -1880,7 +1884,7 @@ public final class PromisesTest {
 
     private static void counts() {
         promise = 40;
-        ColdShips x = landed();
+        Told x = landed();
         due(x.count(0), 22);
         due(x.count(1), 2);
         due(x.count(2), 1);
@@ -1897,7 +1901,7 @@ public final class PromisesTest {
 
     private static void status() {
         promise = 41;
-        ColdShips x = landed();
+        Told x = landed();
         due(x.status(), 0);
         due(x.order(0, 9, 9), -1);
         // These are no calls that status() tells of.
