@@ -143,6 +143,14 @@ public final class EdgesOfContractsTest extends Edges {
         for (int known = 0; known < late.length; known++) {
             due(x.due(0, 0, known, 3), late[known]);
         }
+        // One FORCE behind the other, up to the last HOUR.
+        Told y = landed(15, 5);
+        contract(y, "window 0 to 9;fine late");
+        y.force(19, 19, 0);
+        y.force(10, 17, 0);
+        due(y.due(0, 0, 0, 3), 1);
+        y.force(18, 18, 0);
+        due(y.due(0, 0, 0, 3), 0);
         says("FORCE: how many times");
         due(x.force(0, 0, 0), 6);
         due(x.force(0, 0, 0), 7);
@@ -160,6 +168,8 @@ public final class EdgesOfContractsTest extends Edges {
         contract(y, "pay billed");
         due(y.bill(0, 200_000), 0);
         due(y.due(0, 0, 0, 0), 200_000);
+        contract(y, "pay tons");
+        due(y.due(0, 1, 0, 0), 20);
     }
 
     // ---------------------------------------------------------------- windows, places
@@ -192,6 +202,15 @@ public final class EdgesOfContractsTest extends Edges {
         due(dueOf(x, "window 17 to 17;window 16 to 18;pay late*100+early", 0), 101);
         due(dueOf(x, "window 16 to 18;pay late*100+early;window 17 to 17", 0), 202);
         due(dueOf(x, "window 17 to 17;window 0 to 2399;pay late*100+early", 0), 0);
+        says("without: 0 to 2399, none, whatever the TEXTS ahead say");
+        Told after = x.copy();
+        due(contract(after, "window 17 to 17;at 1;pay late*100+early*10+elsewhere"), 0);
+        due(contract(after, "pay late*100+early*10+elsewhere"), 1);
+        due(contract(after, "window 17 to 17;at 1;!"), -6);
+        due(contract(after, "pay late*100+early*10+elsewhere"), 2);
+        due(after.due(0, 0, 0, 0), 220);
+        due(after.due(0, 1, 0, 0), 1);
+        due(after.due(0, 2, 0, 0), 1);
         says("elsewhere: 1, if it isn't at \"at\", else 0");
         due(dueOf(x, "pay elsewhere", 0), 1);
         int[] there = {1, 0, 1, 1, 1, 1};
@@ -230,6 +249,10 @@ public final class EdgesOfContractsTest extends Edges {
         due(faultOf("pay ton s"), 4);
         due(faultOf("pay tonss"), 4);
         due(faultOf("pa y 1"), 0);
+        due(faultOf("payz 1"), 0);
+        due(faultOf("paya 1"), 0);
+        due(faultOf("zpay 1"), 0);
+        due(faultOf("pay 1 az"), 6);
         due(faultOf("pay aay"), 4);
         due(faultOf("pay zzz"), 4);
         due(faultOf("p"), 0);
@@ -350,6 +373,29 @@ public final class EdgesOfContractsTest extends Edges {
         due(faultOf("pay -1"), 4);
         due(faultOf("pay 1+-1"), 6);
         due(faultOf("pay *1"), 4);
+    }
+
+    /** A word with one letter changed, left out or put to it is another word. */
+    private static void otherWords() {
+        says("PART, CLAUSE: words are just these");
+        String[] texts = {"window 1 to 2", "at 1", "pay 1", "fine 1", "pay tons", "pay billed", "pay heat", "pay late",
+            "pay early", "pay price", "pay hours", "pay elsewhere", "pay 1 if 1=1", "pay 1 if 1=1 or 1=1",
+            "pay 1 if 1=1 and 1=1", "pay 1 if not 1=1"};
+        for (String text : texts) {
+            due(faultOf(text), NONE);
+            for (int n = 0; n < text.length(); n++) {
+                char letter = text.charAt(n);
+                if (letter >= 'a' && letter <= 'z') {
+                    int begin = text.lastIndexOf(' ', n) + 1;
+                    String ahead = text.substring(0, n);
+                    String behind = text.substring(n + 1);
+                    due(faultOf(ahead + (letter == 'z' ? 'y' : (char) (letter + 1)) + behind), begin);
+                    due(faultOf(ahead + 'q' + letter + behind), begin);
+                    due(faultOf(ahead + letter + 'q' + behind), begin);
+                    due(faultOf(ahead + behind), begin);
+                }
+            }
+        }
     }
 
     private static void numbers() {
@@ -575,6 +621,12 @@ public final class EdgesOfContractsTest extends Edges {
         due(dueOf(x, "pay 65536*65536*65536*65536+5", 0), 0);
         due(dueOf(x, "pay [65536*65536*16]*[65536*65536]+5", 0), 0);
         due(dueOf(x, "pay [65536*32768]*[65536*2]*[65536]*[65536]+5", 0), 0);
+        for (int a = 26; a <= 39; a++) {
+            for (int b = 64 - a; b <= 39; b++) {
+                due(dueOf(x, "pay 1+[" + power(a) + "]*[" + power(b) + "]", 0), 0);
+                due(dueOf(x, "pay 1+[" + power(a) + "]*[0-" + power(b) + "]", 0), 0);
+            }
+        }
         says("all \"pay\" whose \"if\" is so, less all such \"fine\": each SUM by itself");
         Told all = landed(3, 1);
         contract(all, ("pay " + top + ";").repeat(11) + "pay " + top);
@@ -582,6 +634,10 @@ public final class EdgesOfContractsTest extends Edges {
         contract(all, ("fine " + top + ";").repeat(11) + "fine " + top);
         due(all.due(0, 1, 0, 0), -12 * most);
         due(all.due(0, 1, 0, 2), 12 * most);
+    }
+
+    private static String power(int n) {
+        return n < 16 ? String.valueOf(1 << n) : n < 32 ? "65536*" + (1 << n - 16) : "65536*65536*" + (1 << n - 32);
     }
 
     private static void quotients() {
@@ -666,6 +722,31 @@ public final class EdgesOfContractsTest extends Edges {
         due(dueOf(x, "pay 1 if (1=2 or 1/0=1) or 1=1", 0), 0);
         due(dueOf(x, "pay 1 if not 1=1 and 1/0=1 or 1=1", 0), 1);
         due(dueOf(x, "pay 1 if 1=2 and (1/0=1 or 1/0=1);pay 2", 0), 2);
+    }
+
+    /** Whatever was BROKEN ahead leaves nothing behind. */
+    private static void brokenAgainAndAgain() {
+        says("a CLAUSE with anything BROKEN counts nothing, nor does it matter to what is asked later");
+        Told x = landed(3, 1);
+        contract(x, "pay 1+2*[3+4*[5+6*[7/0]]];pay 1 if 5/0=1;fine 1+[2+[3+1/0]];pay 9");
+        contract(x, "pay 1+2*[3+4*[5+6]] if 1+[1+[1+[1+[1+[1+[1+1]]]]]]=8");
+        for (int n = 0; n < 200; n++) {
+            due(x.due(0, 0, 0, 0), 9);
+            due(x.due(0, 1, 0, 0), 95);
+        }
+    }
+
+    /** As many long TEXTS as there may be, all with fifty PARTS, with faulty ones between. */
+    private static void longTexts() {
+        says("CONTRACTS are TEXTS, 12 at most: each with 50 NUMBERS and words");
+        Told x = landed(3, 1);
+        for (int n = 0; n < 12; n++) {
+            due(contract(x, "pay 1" + "+1".repeat(49) + "+1"), -6);
+            due(contract(x, "pay " + n + "+1".repeat(40) + " if 1=2" + " or 1=1 and 1=1".repeat(1) + " or 1=2"), n);
+        }
+        for (int n = 0; n < 12; n++) {
+            due(x.due(0, n, 0, 0), n + 40);
+        }
     }
 
     private static void noDue() {
@@ -959,6 +1040,7 @@ public final class EdgesOfContractsTest extends Edges {
         tokens();
         grammar();
         clauses();
+        otherWords();
         numbers();
         manyClauses();
         manyParts();
@@ -969,6 +1051,8 @@ public final class EdgesOfContractsTest extends Edges {
         quotients();
         tests();
         brokenClauses();
+        brokenAgainAndAgain();
+        longTexts();
         noDue();
         settles();
         tables();

@@ -236,6 +236,34 @@ public final class EdgesOfHoursTest extends Edges {
         accepted(x, 6, o -> o.slot(1, 1, 100, 300));
     }
 
+    private static void slotsOfTheLast() {
+        says("it can't be (-3), if one of these HOURS is in another SLOT there: of the last SHIP, at the last TERMINAL");
+        Told x = new Told();
+        for (int t = 0; t < 6; t++) {
+            x.terminal(500, 500, 1, 30);
+        }
+        for (int s = 0; s < 6; s++) {
+            x.ship(s, 1000, 1);
+        }
+        for (int t = 0; t < 6; t++) {
+            due(x.slot(t, t % 2 == 0 ? 5 : 0, 10, 19), t + 1);
+        }
+        for (int t = 0; t < 6; t++) {
+            for (int s = 0; s < 6; s++) {
+                due(x.slot(t, s, 19, 19), -3);
+                due(x.slot(t, s, 0, 10), -3);
+            }
+        }
+        due(x.slot(5, 5, 20, 29), 7);
+        due(x.slot(0, 0, 20, 29), 8);
+        x.order(0, LOAD, 100);
+        x.order(5, LOAD, 100);
+        x.go(30);
+        due(x.of(0, GAS), 10);
+        due(x.of(5, GAS), 10);
+        due(x.part(5, 5), 10);
+    }
+
     private static void brokenHours() {
         says("ARMS of a TERMINAL are BROKEN from an HOUR to an HOUR");
         Told x = loader(30);
@@ -356,6 +384,46 @@ public final class EdgesOfHoursTest extends Edges {
         }
     }
 
+    /** Gas of six TERMINALS, a hundred tons of each. */
+    private static void partsOfSix() {
+        says("PARTS of its GAS by the TERMINALS where it was LOADED");
+        Told x = new Told();
+        for (int t = 0; t < 6; t++) {
+            x.terminal(5000, 9000, 4000, 30);
+        }
+        x.ship(0, 1000, 1);
+        x.terms(0, 1000);
+        for (int t = 0; t < 6; t++) {
+            x.slot(t, 0, 0, 99);
+            if (t > 0) {
+                x.way(t - 1, t, 1, false);
+            }
+            x.order(0, SAIL, t);
+            x.order(0, LOAD, 100);
+        }
+        x.go(12);
+        for (int t = 0; t < 6; t++) {
+            due(x.part(0, t), 100);
+            due(x.heat(t, 1000 + 10 * t), 1000);
+        }
+        x.order(0, LAND, 9);
+        x.order(0, LAND, 1);
+        x.go(2);
+        // Nine: one and a half of each, so that the first three give two. Then 98, 98, 98, 99, 99, 99 are left.
+        int[] nine = {2, 2, 2, 1, 1, 1};
+        for (int t = 0; t < 6; t++) {
+            due(x.led(0, t), nine[t]);
+            due(x.led(1, t), t == 3 ? 1 : 0);
+            due(x.part(0, t), 100 - nine[t] - (t == 3 ? 1 : 0));
+        }
+        due(x.landing(0, 5), (9000 + 2 * (10 + 20) + 30 + 40 + 50) / 9);
+        says("of a LANDING the sum of PARTS times HEATS through tons: of one ton");
+        due(x.landing(1, 4), 1);
+        due(x.landing(1, 5), 1030);
+        due(x.bill(0, 5), 0);
+        due(x.led(0, 5), 1);
+    }
+
     private static void press() {
         says("PRESS: VAPOR times 1000 through (CAP less GAS, and CAP / 100), cut");
         // CAP 1099: a hundredth is 10. One ton is BOILED an HOUR of 920 tons and more, and loaded again.
@@ -381,7 +449,7 @@ public final class EdgesOfHoursTest extends Edges {
         says("(1) BOILED are GAS times (BOILS and the SEA of its DAY) / 100,000, cut");
         int[][] all = {{1000, 100, 0, 1}, {999, 100, 0, 0}, {1999, 100, 0, 1}, {2000, 100, 0, 2}, {2000, 0, 0, 0},
             {2000, 41, 9, 1}, {1999, 41, 9, 0}, {2000, 49, 0, 0}, {2000, 50, 0, 1}, {1000, 91, 9, 1}, {1000, 91, 8, 0},
-            {2500, 31, 9, 1}, {2499, 31, 9, 0}};
+            {2500, 31, 9, 1}, {2499, 31, 9, 0}, {2439, 41, 0, 0}, {2439, 32, 9, 0}};
         for (int[] b : all) {
             Told x = port(10_000, 30, 4000, 1);
             x.order(0, LOAD, b[0]);
@@ -420,7 +488,7 @@ public final class EdgesOfHoursTest extends Edges {
 
     private static void cooled() {
         says("else, if WARM is above 0, it is 20 less (0 at least), and COOLED are what it is less times CAP / 100,000, cut");
-        int[][] caps = {{1000, 0}, {4999, 0}, {5000, 1}, {9999, 1}, {10_000, 2}, {14_999, 2}};
+        int[][] caps = {{1000, 0}, {4999, 0}, {5000, 1}, {9999, 1}, {10_000, 2}, {14_999, 2}, {99_999, 19}, {100_000, 20}};
         for (int[] c : caps) {
             Told x = port(10_000, 30, c[0], 1);
             x.order(0, LOAD, c[0] / 50);
@@ -582,6 +650,48 @@ public final class EdgesOfHoursTest extends Edges {
         x.go(1);
         due(x.of(0, GAS), 5);
         due(x.of(0, ORDERS), 0);
+    }
+
+    /** In no HOUR does it need a TURN for that. */
+    private static void sailsToWhereItIsInEachHour() {
+        says("SAIL: where it is already, it is done at once in this HOUR");
+        Told x = port(400, 30, 1000, 1);
+        x.way(0, 1, 2, true);
+        for (int h = 0; h < 25; h++) {
+            due(x.order(0, SAIL, 0), 1);
+            x.go(1);
+            due(x.of(0, WHERE), 0);
+            due(x.of(0, LEFT), 0);
+            due(x.of(0, ORDERS), 0);
+        }
+    }
+
+    /** A LOAD that was ended by the TOP, or by an empty STORE, is not taken up again. */
+    private static void whatIsDoneStaysDone() {
+        says("What is done is gone from the row");
+        Told x = port(4000, 30, 2000, 1);
+        x.order(0, LOAD, 200_000);
+        x.go(6);
+        due(x.of(0, GAS), 1960);
+        due(x.of(0, ORDERS), 0);
+        x.terms(100, 1000);
+        x.go(5);
+        due(x.of(0, GAS), 1955);
+        due(x.book(0, 0), 1960);
+        Told y = new Told();
+        y.terminal(100, 1000, 400, 30);
+        y.ship(0, 1000, 1);
+        y.terms(0, 1000);
+        y.slot(0, 0, 0, 99);
+        y.order(0, LOAD, 300);
+        y.go(2);
+        due(y.of(0, GAS), 100);
+        due(y.of(0, ORDERS), 0);
+        y.order(0, LAND, 70);
+        y.go(5);
+        due(y.of(0, GAS), 30);
+        due(y.store(0), 70);
+        due(y.of(0, TONS), 0);
     }
 
     private static void sailsWithoutAWay() {
@@ -1046,6 +1156,23 @@ public final class EdgesOfHoursTest extends Edges {
         }
     }
 
+    /** 27 tons in a space of 31 have PRESS 870: the most that there may be. */
+    private static void ventedInAnOddSpace() {
+        says("(5) If PRESS is above LIMIT, VAPOR is VENTED ton by ton till it is not");
+        for (int[] l : new int[][] {{871, 27}, {870, 27}, {869, 26}, {839, 26}, {838, 26}, {837, 25}}) {
+            Told x = port(4100, 30, 1050, 1);
+            x.terms(100, l[0]);
+            x.sea(0, 9);
+            x.sea(1, 9);
+            x.order(0, LOAD, 200_000);
+            x.go(2 + l[1]);
+            due(x.of(0, GAS), 1029);
+            x.go(4);
+            due(x.of(0, VAPOR), l[1]);
+            due(x.of(0, PRESS), l[1] * 1000 / 31);
+        }
+    }
+
     private static void landingHours() {
         says("the first and the last HOUR in which tons were, tons, their PARTS");
         Told x = mixed(300, 300, 300);
@@ -1078,6 +1205,75 @@ public final class EdgesOfHoursTest extends Edges {
         due(x.part(0, 0) + x.part(0, 1) + x.part(0, 2), 400);
     }
 
+    private static void tell(Told x, int... want) {
+        for (int what = 0; what < want.length; what++) {
+            due(x.of(0, what), want[what]);
+        }
+    }
+
+    /** All that is told of a ship, HOUR by HOUR. */
+    private static void whatIsToldOfAShip() {
+        says("0 where it is (at sea whither), 1 HOURS left (0 at a TERMINAL), 7 what is left (0 of others, none), 9 DRIFTING");
+        Told x = port(400, 30, 1000, 4);
+        x.way(0, 1, 3, false);
+        tell(x, 0, 0, 0, 0, 1800, 0, 0, 0, 8, 0);
+        x.order(0, LOAD, 150);
+        tell(x, 0, 0, 0, 0, 1800, 0, 1, 150, 8, 0);
+        x.order(0, SAIL, 1);
+        x.order(0, LAND, 100);
+        x.order(0, WAIT, 9);
+        x.go(1);
+        tell(x, 0, 0, 100, 0, 1800, 0, 4, 50, 8, 1);
+        x.go(1);
+        tell(x, 0, 0, 149, 0, 1780, 0, 3, 0, 9, 0);
+        x.go(1);
+        says("at sea (also in the HOUR in which it left) one HOUR less is left");
+        tell(x, 1, 2, 148, 0, 1760, 0, 3, 0, 9, 0);
+        x.go(1);
+        tell(x, 1, 1, 144, 0, 1740, 0, 3, 0, 9, 0);
+        says("With none left it is at the TERMINAL, and the ORDER is done");
+        x.go(1);
+        tell(x, 1, 0, 140, 0, 1720, 0, 2, 100, 9, 0);
+        x.go(1);
+        says("The ORDER is done when nothing is left of it");
+        tell(x, 1, 0, 39, 0, 1700, 0, 1, 0, 8, 0);
+        x.go(4);
+        tell(x, 1, 0, 35, 0, 1620, 0, 0, 0, 8, 0);
+        says("BOOK of a SHIP: LOADED, BURNT, VENTED, LANDED, in all");
+        due(x.book(0, 0), 150);
+        due(x.book(0, 1), 1 + 1 + 4 + 4 + 1 + 4);
+        due(x.book(0, 2), 0);
+        due(x.book(0, 3), 100);
+    }
+
+    /** From nothing to many thousand tons each ton is in the book. */
+    private static void allTonsAreInTheBook() {
+        says("BOOK of a SHIP: LOADED, BURNT, VENTED, LANDED, in all");
+        Told x = new Told();
+        x.terminal(500_000, 500_000, 10_000, 30);
+        x.terminal(0, 500_000, 10_000, 30);
+        x.ship(0, 200_000, 50);
+        x.terms(100, 1);
+        x.way(0, 1, 5, false);
+        x.slot(0, 0, 0, 2399);
+        x.slot(1, 0, 0, 2399);
+        for (int n = 0; n < 4; n++) {
+            x.order(0, LOAD, 200_000);
+            x.order(0, SAIL, 1);
+            x.order(0, LAND, 200_000);
+            x.order(0, SAIL, 0);
+        }
+        for (int n = 0; n < 24; n++) {
+            x.go(20);
+            due(x.book(0, 0), x.book(0, 1) + x.book(0, 2) + x.book(0, 3) + x.of(0, GAS) + x.of(0, VAPOR));
+            due(x.part(0, 0), x.of(0, GAS));
+            due(x.store(0) + x.book(0, 0), 500_000);
+            due(x.store(1), x.book(0, 3));
+        }
+        due(x.book(0, 0), 500_000);
+        due(x.book(0, 1) > 0 && x.book(0, 2) > 0 && x.book(0, 3) > 300_000 ? 1 : 0, 1);
+    }
+
     /** Two ships sail, load and land in turn: many HOURS at once are as many HOURS one by one. */
     private static void hourByHour() {
         says("NOW is one more then (behind all SHIPS)");
@@ -1098,10 +1294,12 @@ public final class EdgesOfHoursTest extends Edges {
         seas();
         slotsHaveBothEnds();
         slotsThatMeet();
+        slotsOfTheLast();
         brokenHours();
         termsAtFirst();
         ordersBehindOneAnother();
         parts();
+        partsOfSix();
         press();
         boiled();
         warmed();
@@ -1111,6 +1309,8 @@ public final class EdgesOfHoursTest extends Edges {
         burntOfVaporFirst();
         drifting();
         sailsToWhereItIs();
+        sailsToWhereItIsInEachHour();
+        whatIsDoneStaysDone();
         sailsWithoutAWay();
         wayHours();
         rough();
@@ -1125,7 +1325,10 @@ public final class EdgesOfHoursTest extends Edges {
         onlyWhenTonsMayGo();
         waits();
         vented();
+        ventedInAnOddSpace();
         landingHours();
+        whatIsToldOfAShip();
+        allTonsAreInTheBook();
         hourByHour();
         finish();
     }

@@ -332,6 +332,46 @@ public final class EdgesOfNumbersTest extends Edges {
         due(x.gauged(1, 2399, 0), NOTHING);
     }
 
+    /** What calls answer that have nothing to count. */
+    private static void answersOfNought() {
+        Told x = midst();
+        says("way, tide, sea, terms, bill, settle, table, image, back: 0");
+        accepted(x, 0, o -> o.way(0, 1, 1, false));
+        accepted(x, 0, o -> o.way(2, 0, 400, true));
+        accepted(x, 0, o -> o.tide(0, 9));
+        accepted(x, 0, o -> o.tide(24, 0));
+        accepted(x, 0, o -> o.sea(0, 9));
+        accepted(x, 0, o -> o.sea(99, 0));
+        accepted(x, 0, o -> o.terms(0, 1));
+        accepted(x, 0, o -> o.terms(100, 1000));
+        accepted(x, 0, o -> o.bill(1, 200_000));
+        accepted(x, 0, o -> o.settle(1, 1));
+        accepted(x, 0, o -> o.table(2, 3, 5000, 200_000));
+        accepted(x, 0, o -> o.table(0, 0, 0, 0));
+        accepted(x, 0, o -> o.image(0));
+        accepted(x, 0, o -> o.image(1));
+        accepted(x, 0, o -> o.back(0));
+        says("how many there are; what it was; how many its SHIP has");
+        accepted(x, 4, o -> o.slot(2, 0, 0, 0));
+        accepted(x, 3, o -> o.broken(2, 0, 0));
+        accepted(x, 4, o -> o.price(99, 10_000, 2399));
+        accepted(x, 3, o -> o.force(0, 0, 0));
+        accepted(x, 3, o -> o.reading(1, 1, 5000, -20, 2399));
+        accepted(x, 3, o -> o.cargo(2, 0, 0, 0, 0, 0, 1, 0));
+        accepted(x, 1100, o -> o.heat(0, 2000));
+        accepted(x, 3, o -> o.list(0, -50));
+        accepted(x, 3, o -> o.order(0, LAND, 200_000));
+        accepted(x, 2, o -> o.order(1, LOAD, 1));
+        says("A TERMINAL: its number; A SHIP: its number; NOW");
+        accepted(x, 3, o -> o.terminal(0, 0, 1, 0));
+        accepted(x, 3, o -> o.ship(2, 200_000, 50));
+        accepted(x, 20, o -> o.go(1));
+        says("CARGOES are none: how many there were; The TAPE has its first n bytes alone: n");
+        due(x.copy().clear(), 2);
+        due(x.copy().end(18), 18);
+        due(x.copy().feed(0, 0, 0, 0, 0), 39);
+    }
+
     private static void asks(Told x, long none, Numbers call, int[] good, int[] least, int[] most) {
         for (int place = 0; place < good.length; place++) {
             int[] a = good.clone();
@@ -367,6 +407,7 @@ public final class EdgesOfNumbersTest extends Edges {
         numbersOfTapes();
         questions();
         askedOfGauges();
+        answersOfNought();
         finish();
     }
 }

@@ -563,6 +563,37 @@ public final class EdgesOfRoomTest extends Edges {
         due(x.status(), -2);
     }
 
+    private static void counts() {
+        says("0 NOW, 1 TERMINALS, 2 SHIPS, 3 SLOTS, 4 LANDINGS, 5 CONTRACTS, 6 CARGOES, 7 READINGS, 8 bytes of the TAPE");
+        Told.Call[] calls = {o -> o.go(1), o -> o.terminal(0, 0, 1, 0), o -> o.ship(0, 1000, 1), o -> o.slot(2, 0, 5, 5),
+            null, null, o -> o.cargo(0, 1, 0, 0, 0, 0, 1, 0), o -> o.reading(0, 0, 0, 0, 0), o -> o.feed(0, 0, 0, 0, 0)};
+        int[] first = {19, 3, 3, 3, 2, 2, 2, 2, 19};
+        int[] more = {1, 1, 1, 1, 0, 0, 1, 1, 20};
+        for (int n = 0; n < calls.length; n++) {
+            Told x = midst();
+            if (calls[n] != null) {
+                x.tell(calls[n]);
+            }
+            for (int what = 0; what <= 8; what++) {
+                due(x.count(what), first[what] + (what == n ? more[n] : 0));
+            }
+            due(x.count(9), NONE);
+            due(x.count(-1), NONE);
+        }
+        Told x = midst();
+        // A LANDING is there once its ORDER is done: 267 tons are 67 above the HEEL, which are landed in the next HOUR.
+        x.go(1);
+        due(x.count(4), 2);
+        x.go(1);
+        due(x.count(4), 3);
+        due(contract(x, "pay 1"), 2);
+        due(x.count(5), 3);
+        due(x.count(8), 0);
+        due(contract(x, "pay"), -6);
+        due(x.count(5), 3);
+        due(x.count(8), 0);
+    }
+
     // ---------------------------------------------------------------- the calls of an object
 
     private static void fiveHundredAndTwelve() {
@@ -677,6 +708,7 @@ public final class EdgesOfRoomTest extends Edges {
         statusAheadOfAny();
         statusStays();
         statusIsTakenAway();
+        counts();
         fiveHundredAndTwelve();
         dearestCalls();
         textAfterText();

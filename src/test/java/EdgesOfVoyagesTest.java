@@ -288,6 +288,8 @@ public final class EdgesOfVoyagesTest extends Edges {
         due(boiledWorth(200, 99, 10), 199);
         due(boiledWorth(200, 100, 10), 198);
         due(boiledWorth(200, 2000, 0), 200);
+        due(boiledWorth(271, 41, 9), 271);
+        due(boiledWorth(250, 40, 10), 249);
         due(boiledWorth(980, 2000, 10), 980 - 196);
         says("(at most the tons)");
         due(boiledWorth(200, 999, 100), 1);
@@ -304,6 +306,11 @@ public final class EdgesOfVoyagesTest extends Edges {
         due(x.judge(0, 0, NONE, NONE, 0), (500 - 7) * 10 - 1000);
         x.broken(0, 2, 6);
         due(x.judge(0, 0, NONE, NONE, 0), (500 - 10) * 10 - 1000);
+        // What goes by ahead of loading is not with them.
+        x.clear();
+        x.cargo(0, 1, 40, 60, 0, 99, 500, 10);
+        due(x.judge(0, 0, NONE, NONE, 0), (500 - 7) * 10 - 1000);
+        due(x.judge(0, 0, NONE, NONE, 60), (500 - 7) * 10 - 1000);
     }
 
     private static void worths() {
@@ -507,6 +514,88 @@ public final class EdgesOfVoyagesTest extends Edges {
         due(x.voyage(1, 1), 0);
     }
 
+    /** CARGOES of price 16 are landed so late that nothing can be done behind them; one goes back (NONE: none does). */
+    private static void alikeSets() {
+        says("of alike ones that with the fewest CARGOES, then the first as a row of numbers");
+        // Three prices, which CARGO goes back, and which one alone is the BEST.
+        int[][] all = {{11, 6, 16, 1, 2}, {16, 11, 6, 2, 0}, {11, 16, 6, 2, 1}, {16, 16, 1, 2, 0}, {16, 1, 16, 1, 0},
+            {1, 16, 16, 0, 1}, {11, 11, 11, NONE, 0}};
+        for (int[] n : all) {
+            Told x = new Told();
+            x.terminal(0, 0, 100, 0);
+            x.terminal(0, 0, 100, 0);
+            x.ship(0, 1000, 1);
+            x.way(0, 1, 1, false);
+            x.terms(0, 700);
+            for (int c = 0; c < 3; c++) {
+                boolean back = n[3] == c;
+                x.cargo(back ? 1 : 0, back ? 0 : 1, 0, back ? 9 : 0, n[c] == 16 ? 50 : 0, 60, 100, n[c]);
+            }
+            due(x.best(0), 100L * n[n[4]] - 100);
+            for (int c = 0; c < 3; c++) {
+                due(x.voyage(c, 0), n[4] == c ? 0 : NONE);
+            }
+        }
+    }
+
+    /** The row 1, 2, 0 goes nowhere without tons; 2, 0, 1 can be, too, and is ahead as a row of places, but costs more. */
+    private static void worthBeforePlaces() {
+        says("the rows of greatest WORTH together");
+        Told x = new Told();
+        x.terminal(0, 0, 100, 0);
+        x.terminal(0, 0, 100, 0);
+        x.ship(0, 1000, 1);
+        x.way(0, 1, 1, false);
+        x.terms(0, 700);
+        x.cargo(0, 1, 50, 99, 0, 199, 100, 50);
+        x.cargo(0, 1, 0, 99, 0, 199, 100, 50);
+        x.cargo(1, 0, 0, 30, 0, 199, 100, 50);
+        due(x.judge(0, 1, 2, 0, 0), 15_000 - 300);
+        due(x.judge(0, 2, 0, 1, 0), 15_000 - 500);
+        due(x.best(0), 15_000 - 300);
+        int[] places = {2, 0, 1};
+        for (int c = 0; c < 3; c++) {
+            due(x.voyage(c, 1), places[c]);
+        }
+    }
+
+    /** Three ships with two CARGOES each, which must be done in an order that is not that of their numbers. */
+    private static void threeRows() {
+        says("each has a row of CARGOES, done one behind the other");
+        Told x = new Told();
+        for (int t = 0; t < 6; t++) {
+            x.terminal(0, 0, 100, 0);
+        }
+        x.terms(0, 700);
+        for (int s = 0; s < 3; s++) {
+            x.ship(2 * s, 1000, 1 + s);
+            x.way(2 * s, 2 * s + 1, 5 + s, false);
+        }
+        for (int s = 2; s >= 0; s--) {
+            x.cargo(2 * s + 1, 2 * s, 0, 99, 0, 99, 200, 100);
+        }
+        for (int s = 0; s < 3; s++) {
+            x.cargo(2 * s, 2 * s + 1, 0, 9, 0, 99, 100, 100);
+        }
+        long sum = 0;
+        for (int s = 0; s < 3; s++) {
+            sum += 30_000 - 2 * 100 * (1 + s) * (5 + s);
+        }
+        due(x.best(0), sum);
+        for (int s = 0; s < 3; s++) {
+            due(x.voyage(2 - s, 0), s);
+            due(x.voyage(2 - s, 1), 1);
+            due(x.voyage(2 - s, 2), 2 + 5 + s);
+            due(x.voyage(2 - s, 3), 2 + 5 + s + 2 + 5 + s);
+            due(x.voyage(2 - s, 4), 20_000 - 100 * (1 + s) * (5 + s));
+            due(x.voyage(3 + s, 0), s);
+            due(x.voyage(3 + s, 1), 0);
+            due(x.voyage(3 + s, 2), 0);
+            due(x.voyage(3 + s, 3), 1 + 5 + s);
+            due(x.voyage(3 + s, 4), 10_000 - 100 * (1 + s) * (5 + s));
+        }
+    }
+
     private static void latestBest() {
         says("Of a CARGO in the latest BEST; NOTHING (-2,000,000,000,000,000) without");
         Told x = fleet();
@@ -599,21 +688,19 @@ public final class EdgesOfVoyagesTest extends Edges {
         says("BACK to one all is as it was then");
         for (Told.Call change : changes()) {
             for (int k = 0; k <= 1; k++) {
-                int image = k;
                 Told plain = midst();
-                plain.image(k);
-                plain.back(k);
                 Told with = midst();
                 with.image(k);
                 due(with.tell(change) < 0 ? 1 : 0, 0);
                 due(with.back(k), 0);
                 due(with.status(), 0);
-                sameAsPlain(plain, with, image);
+                sameAsPlain(plain, with);
             }
         }
     }
 
-    private static void sameAsPlain(Told plain, Told with, int k) {
+    /** A run that has been gone back in tells what one without tells, at once and later. */
+    private static void sameAsPlain(Told plain, Told with) {
         due(picture(plain, true).equals(picture(with, true)) ? 1 : 0, 1);
         for (Told x : new Told[] {plain, with}) {
             x.go(1);
@@ -632,8 +719,258 @@ public final class EdgesOfVoyagesTest extends Edges {
         due(with.list(0, 7), plain.list(0, 7));
         due(with.bill(1, 7), plain.bill(1, 7));
         due(with.settle(1, 0), plain.settle(1, 0));
-        due(with.back(k), plain.back(k));
+        due(with.best(0), plain.best(0));
         due(picture(plain, true).equals(picture(with, true)) ? 1 : 0, 1);
+    }
+
+    /** Other TERMINALS and SHIPS under the same numbers, then back; and the other way round. */
+    private static void bornAnew() {
+        says("BACK to one all is as it was then: other TERMINALS and SHIPS under the same numbers");
+        Told x = new Told();
+        due(x.image(0), 0);
+        sixOfAll(x);
+        Told plain = new Told();
+        sixOfAll(plain);
+        due(picture(plain, true).equals(picture(x, true)) ? 1 : 0, 1);
+        due(x.image(1), 0);
+        // Back to nothing: what is made anew has nothing of what was there.
+        due(x.back(0), 0);
+        for (int what = 0; what <= 7; what++) {
+            due(x.count(what), 0);
+        }
+        Told fresh = new Told();
+        for (Told y : new Told[] {x, fresh}) {
+            otherSix(y);
+        }
+        due(picture(fresh, true).equals(picture(x, true)) ? 1 : 0, 1);
+        for (int s = 0; s < 6; s++) {
+            due(x.list(s, 0), 0);
+        }
+        for (Told y : new Told[] {x, fresh}) {
+            y.go(2);
+            y.way(0, 1, 6, false);
+            y.go(3);
+        }
+        due(picture(fresh, true).equals(picture(x, true)) ? 1 : 0, 1);
+        due(x.back(1), 0);
+        due(picture(plain, true).equals(picture(x, true)) ? 1 : 0, 1);
+        for (Told y : new Told[] {x, plain}) {
+            y.go(12);
+        }
+        due(picture(plain, true).equals(picture(x, true)) ? 1 : 0, 1);
+        for (int s = 0; s < 6; s++) {
+            due(x.list(s, 0), s + 1);
+        }
+        for (Told y : new Told[] {x, plain}) {
+            y.order(0, LOAD, 150);
+            y.order(0, LAND, 900);
+            y.order(2, SAIL, 3);
+            y.go(40);
+        }
+        due(picture(plain, true).equals(picture(x, true)) ? 1 : 0, 1);
+        // Of the LANDING that was under way no more tons could go.
+        due(x.landing(0, 1), 1);
+        due(x.landing(0, 2), 11);
+        due(x.landing(0, 3), 11);
+    }
+
+    /** At sea, in the canal, drifting, with VAPOR, with a LANDING under way, with LISTS, at a CAP. */
+    private static void sixOfAll(Told x) {
+        for (int t = 0; t < 6; t++) {
+            x.terminal(30_000, 30_100, t == 1 ? 30 : 400, t == 0 ? 9 : 30);
+            x.heat(t, 600 + t);
+        }
+        for (int s = 0; s < 6; s++) {
+            x.ship(s, s == 0 ? 10_000 : 1000 * (s + 1), s == 0 ? 1 : 4 * s);
+            x.list(s, s + 1);
+            x.table(s, 0, s, s);
+            x.slot(s, s, 0, 2399);
+        }
+        x.terms(100, 5);
+        x.sea(0, 5);
+        x.tide(3, 5);
+        x.way(0, 1, 4, false);
+        x.way(2, 3, 8, true);
+        x.way(3, 5, 2, true);
+        x.way(4, 5, 300, false);
+        x.order(0, LOAD, 900);
+        x.order(1, LOAD, 21);
+        x.order(1, LOAD, 40);
+        x.order(1, LAND, 50);
+        x.order(2, LOAD, 600);
+        x.order(3, LOAD, 100);
+        x.order(3, SAIL, 5);
+        x.order(4, LOAD, 100);
+        x.order(4, SAIL, 5);
+        x.order(5, LOAD, 50);
+        x.order(5, WAIT, 2000);
+        x.broken(1, 0, 1);
+        x.broken(1, 12, 30);
+        x.go(16);
+    }
+
+    private static void otherSix(Told x) {
+        for (int t = 0; t < 6; t++) {
+            x.terminal(40_000, 90_000, 700 + t, 20);
+        }
+        for (int s = 0; s < 6; s++) {
+            x.ship(5 - s, 12_345 + s, 9);
+            x.slot(5 - s, s, 0, 99);
+        }
+        x.order(0, SAIL, 1);
+        x.order(1, LOAD, 500);
+        x.order(1, LAND, 20);
+        x.order(2, LOAD, 500);
+        x.order(4, SAIL, 0);
+    }
+
+    /** A ship in the canal, which goes on by another WAY, and a LANDING under way, with another one behind it. */
+    private static void underWayGoneBackTo() {
+        says("BACK to one all is as it was then: under way");
+        Told x = new Told();
+        for (int t = 0; t < 3; t++) {
+            x.terminal(5000, 9000, 400, 30);
+        }
+        x.ship(0, 1000, 1);
+        x.terms(0, 1000);
+        x.way(0, 1, 4, true);
+        x.way(1, 2, 9, false);
+        for (int t = 0; t < 3; t++) {
+            x.slot(t, 0, 0, 99);
+        }
+        x.order(0, LOAD, 100);
+        x.order(0, SAIL, 1);
+        x.order(0, SAIL, 2);
+        x.go(3);
+        x.image(0);
+        x.go(8);
+        due(x.of(0, WHERE), 2);
+        due(x.back(0), 0);
+        due(x.of(0, LEFT), 2);
+        due(x.of(0, WHERE), 1);
+        x.go(3);
+        due(x.of(0, LEFT), 2);
+        x.go(1);
+        due(x.of(0, LEFT), 1);
+        Told y = new Told();
+        y.terminal(5000, 5000, 400, 30);
+        y.terminal(0, 40, 10, 30);
+        y.ship(0, 1000, 1);
+        y.terms(0, 1000);
+        y.way(0, 1, 1, false);
+        y.slot(0, 0, 0, 99);
+        y.slot(1, 0, 0, 99);
+        y.order(0, LOAD, 100);
+        y.order(0, SAIL, 1);
+        y.order(0, LAND, 50);
+        y.order(0, SAIL, 0);
+        y.order(0, LAND, 5);
+        y.go(6);
+        due(y.store(1), 40);
+        y.image(1);
+        for (int n = 0; n < 2; n++) {
+            y.go(n == 0 ? 10 : 1);
+            due(y.count(4), n == 0 ? 2 : 1);
+            due(y.landing(0, 2), 2);
+            due(y.landing(0, 3), 5);
+            due(y.landing(0, 4), 40);
+            due(y.landing(1, 2), n == 0 ? 8 : NONE);
+            due(y.back(1), 0);
+            due(y.count(4), 0);
+        }
+    }
+
+    private static void limitsGoneBackTo() {
+        says("BACK to one all is as it was then: BOILS, LIMIT");
+        Told x = new Told();
+        x.terminal(5000, 5000, 4000, 30);
+        x.ship(0, 1000, 1);
+        x.slot(0, 0, 0, 99);
+        x.terms(100, 500);
+        x.sea(0, 9);
+        x.order(0, LOAD, 200_000);
+        x.go(16);
+        due(x.of(0, VAPOR), 15);
+        x.image(0);
+        x.terms(0, 1);
+        x.go(1);
+        due(x.of(0, VAPOR), 0);
+        x.back(0);
+        due(x.of(0, VAPOR), 15);
+        x.go(1);
+        // 15 tons in 30 have PRESS 500; the sixteenth is VENTED.
+        due(x.of(0, VAPOR), 15);
+        due(x.book(0, 2), 1);
+        says("BACK to one all is as it was then: TIDE, SEA");
+        Told y = new Told();
+        y.terminal(5000, 5000, 4, 7);
+        y.ship(0, 1000, 1);
+        y.slot(0, 0, 0, 99);
+        y.tide(1, 1);
+        y.order(0, LOAD, 100);
+        y.image(0);
+        y.tide(1, 0);
+        y.tide(0, 1);
+        y.go(2);
+        due(y.of(0, GAS), 1);
+        y.back(0);
+        due(y.of(0, GAS), 0);
+        y.go(1);
+        due(y.of(0, GAS), 0);
+        y.go(1);
+        due(y.of(0, GAS), 1);
+    }
+
+    private static void fullGoneBackTo() {
+        says("BACK to one all is as it was then: all that there is room for");
+        Told x = fullWorld();
+        Told plain = x.copy();
+        due(x.image(1), 0);
+        due(x.clear(), 6);
+        due(x.go(100), plain.count(0) + 100);
+        due(x.back(1), 0);
+        due(picture(plain, true).equals(picture(x, true)) ? 1 : 0, 1);
+        due(x.slot(0, 0, 2399, 2399), -5);
+        due(x.broken(0, 0, 0), -5);
+        due(x.price(0, 0, 0), -5);
+        due(x.force(0, 0, 0), -5);
+        due(x.reading(0, 0, 0, 0, 0), -5);
+        due(x.cargo(0, 1, 0, 0, 0, 0, 1, 0), -5);
+        due(x.terminal(0, 0, 1, 0), -5);
+        due(x.ship(0, 1000, 1), -5);
+        due(x.count(4), 60);
+        due(x.landing(59, 4), 1);
+    }
+
+    /** As many of all but CONTRACTS and ORDERS as may be. */
+    private static Told fullWorld() {
+        Told x = new Told();
+        for (int t = 0; t < 6; t++) {
+            x.terminal(5000, 9000, 4000, 30);
+            x.ship(t, 1000, 1);
+        }
+        x.terms(0, 1000);
+        x.way(0, 1, 3, false);
+        x.slot(0, 0, 0, 999);
+        for (int n = 1; n < 60; n++) {
+            x.slot(n % 6, n % 6, 1000 + n, 1000 + n);
+        }
+        for (int n = 0; n < 20; n++) {
+            x.broken(n % 6, 1000 + n, 1000 + n);
+            x.force(n, n, n);
+        }
+        x.order(0, LOAD, 500);
+        x.go(1);
+        for (int n = 0; n < 60; n++) {
+            x.price(0, n, n);
+            x.order(0, LAND, 1);
+            x.go(1);
+            x.reading(n, 0, n, 0, n);
+        }
+        for (int n = 0; n < 6; n++) {
+            x.cargo(0, 1, 0, 900, 0, 900, 10 + n, 100);
+        }
+        return x;
     }
 
     private static void contractsGoneBackTo() {
@@ -653,10 +990,32 @@ public final class EdgesOfVoyagesTest extends Edges {
         due(x.image(0), 0);
         x.back(1);
         due(x.count(5), 2);
+        due(contract(x, "pay 7"), 2);
+        due(x.due(1, 2, 0, 0), 7);
         x.back(0);
         due(x.count(5), 3);
         due(x.due(1, 2, 0, 0), 6);
         due(x.settled(1, 0), 6);
+    }
+
+    private static void firstContractGoneBackTo() {
+        says("BACK to one all is as it was then: the first CONTRACT");
+        Told x = new Told();
+        x.terminal(5000, 5000, 400, 30);
+        x.ship(0, 1000, 1);
+        x.slot(0, 0, 0, 99);
+        x.order(0, LOAD, 100);
+        x.order(0, LAND, 5);
+        x.go(2);
+        x.image(0);
+        due(contract(x, "pay 5"), 0);
+        x.image(1);
+        x.back(0);
+        due(x.due(0, 0, 0, 0), NOTHING);
+        due(contract(x, "pay 6"), 0);
+        due(x.due(0, 0, 0, 0), 6);
+        x.back(1);
+        due(x.due(0, 0, 0, 0), 5);
     }
 
     private static void imagesStay() {
@@ -721,10 +1080,18 @@ public final class EdgesOfVoyagesTest extends Edges {
         noneAtAll();
         alike();
         alikeOfTwo();
+        alikeSets();
+        worthBeforePlaces();
+        threeRows();
         latestBest();
         sixCargoes();
         goneBackTo();
+        bornAnew();
+        underWayGoneBackTo();
+        limitsGoneBackTo();
+        fullGoneBackTo();
         contractsGoneBackTo();
+        firstContractGoneBackTo();
         imagesStay();
         finish();
     }

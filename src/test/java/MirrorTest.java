@@ -1670,19 +1670,19 @@ public final class MirrorTest {
     }
 
     public static void main(String[] args) {
-        for (run = 1; run <= 400 && wrong < 20; run++) {
+        for (run = 1; run <= 800 && wrong < 20; run++) {
             oneRun(between(60, 480));
         }
-        for (; run <= 1400 && wrong < 20; run++) {
+        for (; run <= 1800 && wrong < 20; run++) {
             oneFleet();
         }
-        for (; run <= 1600 && wrong < 20; run++) {
+        for (; run <= 2300 && wrong < 20; run++) {
             oneTrade();
         }
-        for (; run <= 1900 && wrong < 20; run++) {
+        for (; run <= 2800 && wrong < 20; run++) {
             oneRebuilt();
         }
-        for (; run <= 5900 && wrong < 20; run++) {
+        for (; run <= 6800 && wrong < 20; run++) {
             alikeFleet();
         }
         for (int n = 0; n < 3000 && wrong < 20; n++, run++) {
